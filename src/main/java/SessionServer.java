@@ -54,9 +54,7 @@ public final class SessionServer {
     private static final int FOR_UPDATE = 2;
 
     // The modes that each mode of table locks conflicts with, as bits.
-    private static final int[] CONFLICTS = {
-        0, 1 << 8, 3 << 7, 15 << 5, 31 << 4, 3 << 3 | 7 << 6, 63 << 3, 127 << 2, 255 << 1
-    };
+    private static final int[] CONFLICTS = {0, 256, 384, 480, 496, 472, 504, 508, 510};
 
     // What came of a step; an error is the place of its code among CODES, from 1 on.
     private static final int ON = 0;
@@ -115,11 +113,14 @@ public final class SessionServer {
     // How far a statement has come.
     private static final int NOTHING = 0;
     private static final int LOCKING = 1;
-    private static final int LOOKING = 2;
-    private static final int TREATING = 3;
-    private static final int WRITING = 4;
-    private static final int ACTING = 5;
-    private static final int ENDING = 6;
+    private static final int BEGINNING = 2;
+    private static final int FINDING = 3;
+    private static final int PROJECTING = 4;
+    private static final int SHOWING = 5;
+    private static final int TREATING = 6;
+    private static final int WRITING = 7;
+    private static final int ACTING = 8;
+    private static final int ENDING = 9;
 
     // Nodes: first those without operands, then those with one, then those with two.
     private static final int N_INT = 1;
@@ -422,7 +423,7 @@ public final class SessionServer {
 
     private int reading(Session x, int n) {
         Statement st = x.st;
-        int r = parser.parse(tape, n, st);
+        int r = parser.scan(tape, n, st) ? parser.parse() : SYNTAX;
         if (r == ON) {
             r = when(x, st.kind);
         }
@@ -433,7 +434,8 @@ public final class SessionServer {
             int p = x.findPrepared(st.name);
             r = values(x, p);
             if (r == ON) {
-                r = parser.parse(x.preparedText[p], x.preparedText[p].length, st);
+                byte[] text = x.preparedText[p];
+                r = parser.scan(text, text.length, st) ? parser.parse() : SYNTAX;
             }
             if (r == ON) {
                 r = checker.check(st, true);
@@ -506,7 +508,10 @@ public final class SessionServer {
             if (r == ON) {
                 switch (x.work.phase) {
                     case LOCKING: r = lockTables(x); break;
-                    case LOOKING: r = look(x); break;
+                    case BEGINNING: r = beginCommand(x); break;
+                    case FINDING: r = finder.find(x); break;
+                    case PROJECTING: r = finder.project(x); break;
+                    case SHOWING: r = show(x); break;
                     case TREATING: r = treat(x); break;
                     case WRITING: r = write(x); break;
                     case ACTING: r = act(x); break;
@@ -606,10 +611,6 @@ public final class SessionServer {
         return WAITS;
     }
 
-    private int waitFor(Session x, int number) {
-        return beginWait(x, number, 1 << ledger.owner[number]);
-    }
-
     private int lockTables(Session x) {
         Statement st = x.st;
         Work work = x.work;
@@ -629,15 +630,13 @@ public final class SessionServer {
             x.held[x.top * TABLES + slot] |= 1 << mode;
         }
         work.at = 0;
-        work.phase = st.isCommand() ? LOOKING : ACTING;
+        work.phase = st.isCommand() ? BEGINNING : ACTING;
         return ON;
     }
 
     // ---- commands: queries, INSERT, UPDATE, DELETE
 
-    private int look(Session x) {
-        Statement st = x.st;
-        Work work = x.work;
+    private int beginCommand(Session x) {
         if (x.snapshot == 0 || x.isolation == READ_COMMITTED) {
             ledger.clock++;
             if (x.isolation == SERIALIZABLE) {
@@ -649,31 +648,27 @@ public final class SessionServer {
             x.snapshot = ledger.clock;
         }
         x.command++;
+        x.work.rows = x.st.rows;
+        x.work.phase = x.st.rows > 0 ? TREATING : FINDING;
+        return ON;
+    }
+
+    /** What was found is answered, or kept to be treated. */
+    private int show(Session x) {
+        Work work = x.work;
+        Statement st = x.st;
         work.phase = TREATING;
-        work.rows = st.rows;
-        if (st.rows > 0) {
-            return ON;
+        if (st.kind == QUERY) {
+            work.putTypes(st.code);
         }
-        int r = finder.find(x);
-        if (r != ON) {
-            return r;
-        }
-        if (st.kind == UPDATE || st.kind == DELETE) {
-            finder.keepTargets(x);
-            return ON;
-        }
-        finder.project(st);
         if (st.kind == INSERT) {
             finder.keepRows(work);
-            return ON;
-        }
-        work.putTypes(st.code);
-        if (st.lock != 0) {
-            finder.keepTargets(x);
-        } else {
+        } else if (st.kind == QUERY && st.lock == 0) {
             finder.answer(work, st.code);
             work.done = finder.results;
             work.phase = ENDING;
+        } else {
+            finder.keepTargets(x);
         }
         return ON;
     }
@@ -703,7 +698,7 @@ public final class SessionServer {
         }
         int least = store.leastLock(v, x.id, st.lock != FOR_SHARE, ledger);
         if (least > 0) {
-            return waitFor(x, least);
+            return beginWait(x, least, 1 << ledger.owner[least]);
         }
         if (st.kind == QUERY) {
             return lockRow(x, v);
@@ -725,20 +720,16 @@ public final class SessionServer {
                 return ON;
             }
             if (ledger.status[end] == RUNNING && ledger.owner[end] != x.id) {
-                return waitFor(x, end);
+                return beginWait(x, end, 1 << ledger.owner[end]);
             }
             if (ledger.status[end] == COMMITTED && x.isolation != READ_COMMITTED) {
                 return NOT_SERIAL;
             }
             int next = ledger.status[end] == COMMITTED ? store.next[targets[at]] : -1;
-            targets[at] = next >= 0 && fits(x.st.code, next) ? next : -1;
+            machine.row[0] = next;
+            targets[at] = next >= 0 && machine.isTrue(x.st.code) ? next : -1;
         }
         return ON;
-    }
-
-    private boolean fits(Code code, int v) {
-        machine.row[0] = v;
-        return machine.isTrue(code);
     }
 
     private int lockRow(Session x, int v) {
@@ -855,7 +846,7 @@ public final class SessionServer {
                 }
             }
         }
-        return verdict < 0 ? waitFor(x, -verdict) : verdict;
+        return verdict < 0 ? beginWait(x, -verdict, 1 << ledger.owner[-verdict]) : verdict;
     }
 
     /** What a version with a like value means: nothing, an error, or less than 0 for a number to wait for. */
@@ -1500,6 +1491,11 @@ public final class SessionServer {
             limit = Long.MAX_VALUE;
         }
 
+        void become(int what) {
+            kind = what;
+            body = what;
+        }
+
         boolean isCommand() {
             return kind >= INSERT && kind <= QUERY;
         }
@@ -1574,7 +1570,8 @@ public final class SessionServer {
         Statement st;
         Code code;
 
-        int parse(byte[] message, int size, Statement statement) {
+        /** Takes a message into tokens, for a statement that is read next. */
+        boolean scan(byte[] message, int size, Statement statement) {
             text = message;
             length = size;
             st = statement;
@@ -1582,17 +1579,6 @@ public final class SessionServer {
             st.clear();
             at = 0;
             inItems = false;
-            if (!scan() || !statement()) {
-                return SYNTAX;
-            }
-            accept(T_SEMICOLON);
-            if (token[at] != T_END) {
-                return SYNTAX;
-            }
-            return code.over ? TOO_LARGE : code.tooMany ? TOO_MANY : ON;
-        }
-
-        private boolean scan() {
             tokens = 0;
             int i = 0;
             for (int n = 0; n <= length && i < length; n++) {
@@ -1609,6 +1595,52 @@ public final class SessionServer {
             }
             token[tokens] = T_END;
             return true;
+        }
+
+        /** Reads the statement that the tokens make. */
+        int parse() {
+            int prepared = 0;
+            boolean good = true;
+            if (accept(W_PREPARE)) {
+                prepared = name();
+                good = prepared != 0 && accept(W_AS);
+                bodyStart = starts[at];
+            }
+            int word = token[at];
+            switch (good ? word : 0) {
+                case W_SELECT:
+                    st.become(QUERY);
+                    good = query();
+                    break;
+                case W_INSERT:
+                    st.become(INSERT);
+                    good = insertInto() && (accept(W_VALUES) ? rows() : query());
+                    break;
+                case W_UPDATE:
+                    st.become(UPDATE);
+                    good = settings();
+                    break;
+                case W_DELETE:
+                    st.become(DELETE);
+                    at++;
+                    good = accept(W_FROM) && table() && where();
+                    break;
+                case W_EXECUTE:
+                    good = prepared == 0 && execute();
+                    break;
+                default:
+                    good = good && prepared == 0 && other(word);
+                    break;
+            }
+            if (prepared != 0) {
+                st.kind = PREPARE;
+                st.name = prepared;
+            }
+            accept(T_SEMICOLON);
+            if (!good || token[at] != T_END) {
+                return SYNTAX;
+            }
+            return code.over ? TOO_LARGE : code.tooMany ? TOO_MANY : ON;
         }
 
         /** Where the token ends that begins at i, or -1. */
@@ -1762,7 +1794,11 @@ public final class SessionServer {
 
         /** The name that stands here, or 0. */
         private int name() {
-            return accept(T_NAME) ? (int) value[at - 1] : 0;
+            if (token[at] != T_NAME) {
+                return 0;
+            }
+            at++;
+            return (int) value[at - 1];
         }
 
         private boolean table() {
@@ -1771,33 +1807,26 @@ public final class SessionServer {
             return name != 0;
         }
 
-        private boolean statement() {
-            int word = token[at];
-            if (word == W_SELECT || word == W_INSERT || word == W_UPDATE || word == W_DELETE) {
-                return body();
-            }
-            if (!accept(word < T_END ? word : 0)) {
+        private boolean other(int word) {
+            if (word >= T_END) {
                 return false;
             }
+            at++;
             switch (word) {
                 case W_CREATE:
                     return create();
                 case W_DROP:
-                    st.kind = DROP;
+                    st.become(DROP);
                     return accept(W_TABLE) && table();
                 case W_VACUUM:
-                    st.kind = VACUUM;
+                    st.become(VACUUM);
                     return table();
                 case W_CHECKPOINT:
-                    st.kind = CHECKPOINT;
+                    st.become(CHECKPOINT);
                     return true;
                 case W_LOCK:
-                    st.kind = LOCK;
+                    st.become(LOCK);
                     return table() && lockMode();
-                case W_PREPARE:
-                    return prepare();
-                case W_EXECUTE:
-                    return execute();
                 default:
                     return transaction(word);
             }
@@ -1806,23 +1835,23 @@ public final class SessionServer {
         private boolean transaction(int word) {
             switch (word) {
                 case W_BEGIN:
-                    st.kind = BEGIN;
+                    st.become(BEGIN);
                     return isolation();
                 case W_COMMIT:
-                    st.kind = COMMIT;
+                    st.become(COMMIT);
                     return true;
                 case W_ROLLBACK:
-                    st.kind = ROLLBACK;
+                    st.become(ROLLBACK);
                     if (!accept(W_TO)) {
                         return true;
                     }
-                    st.kind = ROLLBACK_TO;
+                    st.become(ROLLBACK_TO);
                     break;
                 case W_SAVEPOINT:
-                    st.kind = SAVEPOINT;
+                    st.become(SAVEPOINT);
                     break;
                 case W_RELEASE:
-                    st.kind = RELEASE;
+                    st.become(RELEASE);
                     break;
                 default:
                     return false;
@@ -1868,12 +1897,11 @@ public final class SessionServer {
 
         private boolean create() {
             if (accept(W_TABLE)) {
-                st.kind = CREATE_TABLE;
+                st.become(CREATE_TABLE);
                 st.name = name();
                 return st.name != 0 && accept(T_OPEN) && columns() && accept(T_CLOSE);
             }
-            st.kind = CREATE_INDEX;
-            st.body = CREATE_INDEX;
+            st.become(CREATE_INDEX);
             int bits = accept(W_UNIQUE) ? Statement.UNIQUE_BIT : 0;
             if (!accept(W_INDEX) || !accept(W_ON) || !table() || !accept(T_OPEN)) {
                 return false;
@@ -1905,21 +1933,9 @@ public final class SessionServer {
             return true;
         }
 
-        private boolean prepare() {
-            int name = name();
-            if (name == 0 || !accept(W_AS)) {
-                return false;
-            }
-            bodyStart = starts[at];
-            boolean good = body();
-            st.kind = PREPARE;
-            st.name = name;
-            return good;
-        }
-
         private boolean execute() {
-            st.kind = EXECUTE;
-            st.body = EXECUTE;
+            at++;
+            st.become(EXECUTE);
             st.name = name();
             if (st.name == 0) {
                 return false;
@@ -1927,29 +1943,11 @@ public final class SessionServer {
             return !accept(T_OPEN) || expressions() && accept(T_CLOSE);
         }
 
-        private boolean body() {
-            if (accept(W_INSERT)) {
-                st.kind = INSERT;
-                st.body = INSERT;
-                if (!accept(W_INTO) || !table()) {
-                    return false;
-                }
-                st.first = 1;
-                return accept(W_VALUES) ? rows() : query();
-            }
-            if (accept(W_UPDATE)) {
-                st.kind = UPDATE;
-                st.body = UPDATE;
-                return table() && accept(W_SET) && settings() && where();
-            }
-            if (accept(W_DELETE)) {
-                st.kind = DELETE;
-                st.body = DELETE;
-                return accept(W_FROM) && table() && where();
-            }
-            st.kind = QUERY;
-            st.body = QUERY;
-            return query();
+        private boolean insertInto() {
+            at++;
+            boolean good = accept(W_INTO) && table();
+            st.first = 1;
+            return good;
         }
 
         private boolean rows() {
@@ -1984,7 +1982,11 @@ public final class SessionServer {
         }
 
         private boolean settings() {
-            boolean more = true;
+            at++;
+            boolean more = table() && accept(W_SET);
+            if (!more) {
+                return false;
+            }
             for (int i = 0; i <= TOKENS && more; i++) {
                 int name = name();
                 if (name == 0 || !accept(T_EQ)) {
@@ -1998,7 +2000,7 @@ public final class SessionServer {
                 code.addExpression(start);
                 more = accept(T_COMMA);
             }
-            return true;
+            return where();
         }
 
         private boolean where() {
@@ -2238,7 +2240,7 @@ public final class SessionServer {
                         return;
                     }
                 }
-                Machine.setByte(cells, cell, k, text[i]);
+                cells[cell + k / 8] |= (long) text[i] << (56 - k % 8 * 8);
                 i++;
             }
         }
@@ -2323,11 +2325,19 @@ public final class SessionServer {
         int check(Statement statement, boolean preparing) {
             st = statement;
             code = statement.code;
+            Arrays.fill(code.parameter, 0);
+            Arrays.fill(met, false);
             int r = tables();
             if (r == ON) {
-                Arrays.fill(code.parameter, 0);
-                Arrays.fill(met, false);
-                r = types();
+                switch (st.body) {
+                    case CREATE_INDEX: r = findSet(0); break;
+                    case INSERT: r = st.rows > 0 ? rowTypes() : queryTypes(); break;
+                    case QUERY: r = queryTypes(); break;
+                    case UPDATE: r = setTypes(); break;
+                    case DELETE: r = whereType(); break;
+                    case EXECUTE: r = listTypes(); break;
+                    default: break;
+                }
             }
             if (r == ON) {
                 r = shape(preparing);
@@ -2350,25 +2360,6 @@ public final class SessionServer {
                 }
             }
             return ON;
-        }
-
-        private int types() {
-            switch (st.body) {
-                case CREATE_INDEX:
-                    return findSet(0);
-                case INSERT:
-                    return st.rows > 0 ? rowTypes() : queryTypes();
-                case QUERY:
-                    return queryTypes();
-                case UPDATE:
-                    return setTypes();
-                case DELETE:
-                    return whereType();
-                case EXECUTE:
-                    return listTypes();
-                default:
-                    return ON;
-            }
         }
 
         private int findSet(int i) {
@@ -2401,7 +2392,7 @@ public final class SessionServer {
                 if (r != ON) {
                     return r;
                 }
-                code.type[e] = settled(alone(stack[0]));
+                code.type[e] = alone(settled(stack[0]));
             }
             return ON;
         }
@@ -2469,7 +2460,7 @@ public final class SessionServer {
         private int fitColumn(int e, int j) {
             Table into = store.tables[st.slot[0]];
             if (st.body == QUERY || j >= into.columns) {
-                stack[0] = alone(stack[0]);
+                stack[0] = alone(settled(stack[0]));
             } else if (!needs(0, into.columnType[j])) {
                 return WRONG_TYPE;
             }
@@ -2531,17 +2522,18 @@ public final class SessionServer {
         }
 
         private boolean needs(int at, int needed) {
-            int type = settled(stack[at]);
+            int type = stack[at];
             if (type > FIRST_TIME) {
-                code.parameter[type % 10] = needed;
+                int k = type % 10;
+                code.parameter[k] = code.parameter[k] == 0 ? needed : code.parameter[k];
+                type = code.parameter[k];
             }
             stack[at] = needed;
-            return type == 0 || type > FIRST_TIME || type == needed;
+            return type == 0 || type == needed;
         }
 
         /** Where any type would do; a parameter that comes again waits for what its first place needs. */
-        private int alone(int pending) {
-            int type = settled(pending);
+        private int alone(int type) {
             if (type > FIRST_TIME && type < AGAIN) {
                 code.parameter[type % 10] = TEXT;
                 return TEXT;
@@ -2561,38 +2553,31 @@ public final class SessionServer {
                     stack[at] = settled(stack[at]);
                     return stack[at] > FIRST_TIME ? needs(at, TEXT) : stack[at] != BOOL;
                 default:
-                    alone(stack[at]);
+                    alone(settled(stack[at]));
                     stack[at] = op == N_COUNT ? INT : BOOL;
                     return true;
             }
         }
 
         private boolean fitsTwo(int op, int at) {
-            if (op >= N_PLUS) {
-                return needs(at, INT) && needs(at + 1, INT);
+            if (op < N_EQ || op > N_GE) {
+                int needed = op >= N_PLUS ? INT : op == N_JOIN ? TEXT : BOOL;
+                return needs(at, needed) && needs(at + 1, needed);
             }
-            if (op == N_JOIN) {
-                return needs(at, TEXT) && needs(at + 1, TEXT);
+            int a = settled(stack[at]);
+            int b = settled(stack[at + 1]);
+            // Beside NULL any type would do; otherwise a parameter takes the other side's type.
+            a = b == 0 ? alone(a) : a;
+            b = a == 0 ? alone(b) : b;
+            boolean good = a == 0 || b == 0 || a == b;
+            if (a > FIRST_TIME && b > 0) {
+                good = needs(at, b > FIRST_TIME ? TEXT : b);
             }
-            if (op <= N_AND) {
-                return needs(at, BOOL) && needs(at + 1, BOOL);
+            if (b > FIRST_TIME && a > 0) {
+                good = needs(at + 1, a > FIRST_TIME ? TEXT : a);
             }
-            boolean good = fitsCompared(settled(stack[at]), settled(stack[at + 1]), at);
             stack[at] = BOOL;
             return good;
-        }
-
-        private boolean fitsCompared(int a, int b, int at) {
-            if (a > FIRST_TIME && b > FIRST_TIME) {
-                return needs(at, TEXT) && needs(at + 1, TEXT);
-            }
-            if (a > FIRST_TIME) {
-                return b == 0 ? alone(a) >= 0 : needs(at, b);
-            }
-            if (b > FIRST_TIME) {
-                return a == 0 ? alone(b) >= 0 : needs(at + 1, a);
-            }
-            return a == 0 || b == 0 || a == b;
         }
 
         /** Names become places: the table's among the query's, and the column's in it. */
@@ -3306,7 +3291,9 @@ public final class SessionServer {
         }
 
         static void setNull(long[] a, int i) {
-            setInt(a, i, 0);
+            a[i] = 0;
+            a[i + 1] = 0;
+            a[i + 2] = 0;
             a[i + 3] = NULL_MARK;
         }
 
@@ -3362,10 +3349,6 @@ public final class SessionServer {
 
         static int byteAt(long[] a, int i, int k) {
             return (int) (a[i + k / 8] >> (56 - k % 8 * 8)) & 255;
-        }
-
-        static void setByte(long[] a, int i, int k, int b) {
-            a[i + k / 8] |= (long) b << (56 - k % 8 * 8);
         }
 
         static int textLength(long[] a, int i) {
@@ -3442,12 +3425,12 @@ public final class SessionServer {
             int b = a + CELL;
             if (op <= N_AND) {
                 decide(op == N_AND ? 0 : 1, a, b);
-            } else if (isNull(stack, a) || isNull(stack, b)) {
+            } else if (isNull(stack, a) || isNull(stack, b) || op >= N_DIVIDE && stack[b] == 0) {
                 setNull(stack, a);
             } else if (op == N_JOIN) {
                 join(a, b);
             } else if (op >= N_PLUS) {
-                reckon(op, a, stack[a], stack[b]);
+                stack[a] = reckon(op, stack[a], stack[b]);
             } else {
                 int sign = compare(stack, a, stack, b);
                 boolean holds = op == N_EQ ? sign == 0 : op == N_NE ? sign != 0 : op == N_LT ? sign < 0
@@ -3458,43 +3441,38 @@ public final class SessionServer {
 
         /** AND and OR: the value that decides does so beside NULL too. */
         private void decide(long deciding, int a, int b) {
-            boolean nullA = isNull(stack, a);
-            boolean nullB = isNull(stack, b);
-            if (!nullA && stack[a] == deciding || !nullB && stack[b] == deciding) {
-                setInt(stack, a, deciding);
-            } else if (nullA || nullB) {
-                setNull(stack, a);
-            } else {
-                setInt(stack, a, 1 - deciding);
-            }
+            boolean nullA = stack[a + 3] == NULL_MARK;
+            boolean nullB = stack[b + 3] == NULL_MARK;
+            boolean decided = !nullA && stack[a] == deciding || !nullB && stack[b] == deciding;
+            boolean open = !decided && (nullA || nullB);
+            stack[a] = decided ? deciding : open ? 0 : 1 - deciding;
+            stack[a + 3] = open ? NULL_MARK : 0;
         }
 
-        private void reckon(int op, int a, long x, long y) {
+        private static long reckon(int op, long x, long y) {
             switch (op) {
-                case N_PLUS:
-                    stack[a] = x + y;
-                    break;
-                case N_MINUS:
-                    stack[a] = x - y;
-                    break;
-                case N_TIMES:
-                    stack[a] = x * y;
-                    break;
-                default:
-                    if (y == 0) {
-                        setNull(stack, a);
-                    } else {
-                        stack[a] = op == N_DIVIDE ? x / y : x % y;
-                    }
-                    break;
+                case N_PLUS: return x + y;
+                case N_MINUS: return x - y;
+                case N_TIMES: return x * y;
+                case N_DIVIDE: return y == 0 ? 0 : x / y;
+                default: return y == 0 ? 0 : x % y;
             }
         }
 
+        /** A TEXT ends where the bytes of its cell are 0. */
         private void join(int a, int b) {
-            int n = textLength(stack, a);
-            int m = textLength(stack, b);
-            for (int k = 0; k < m && n + k < TEXT_BYTES; k++) {
-                setByte(stack, a, n + k, byteAt(stack, b, k));
+            int n = 0;
+            for (int k = 0; k < 2 * TEXT_BYTES && n < TEXT_BYTES; k++) {
+                long left = stack[a + n / 8] >> (56 - n % 8 * 8) & 255;
+                if (left != 0) {
+                    n++;
+                    continue;
+                }
+                for (int m = 0; m < TEXT_BYTES && n < TEXT_BYTES; m++) {
+                    long right = stack[b + m / 8] >> (56 - m % 8 * 8) & 255;
+                    stack[a + n / 8] |= right << (56 - n % 8 * 8);
+                    n++;
+                }
             }
         }
 
@@ -3592,6 +3570,7 @@ public final class SessionServer {
                 gather(x, t, store.tables[st.slot[st.first + t]]);
                 product *= Math.max(1, candidateCount[t]);
             }
+            x.work.phase = st.isQuery() ? PROJECTING : SHOWING;
             return product <= COMBINATIONS && combine(st.code, n) ? ON : TOO_LARGE;
         }
 
@@ -3748,7 +3727,9 @@ public final class SessionServer {
         }
 
         /** Makes the query's results of its rows: groups, items, DISTINCT, ORDER BY, LIMIT. */
-        void project(Statement st) {
+        int project(Session x) {
+            Statement st = x.st;
+            x.work.phase = SHOWING;
             results = 0;
             if (st.code.aggregates || st.groups > 0) {
                 projectGroups(st);
@@ -3760,6 +3741,7 @@ public final class SessionServer {
             }
             sort(st);
             results = (int) Math.min(results, st.limit);
+            return ON;
         }
 
         private void setRow(int r) {
