@@ -26,6 +26,9 @@ public final class SessionServer {
     private static final int RANGES = 8;
     // Far above the rows, targets and statements that one call can come through.
     private static final int STEPS = 1000000;
+    // Behind all times, orders and numbers that a run can come to.
+    private static final int NEVER = 2147483647;
+    private static final long NO_LIMIT = 9223372036854775807L;
 
     // A cell is four longs: an INT or a BOOL in the first, or the 31 bytes of a TEXT, its first highest.
     private static final int CELL = 4;
@@ -362,7 +365,7 @@ public final class SessionServer {
         }
         ledger.abortAll();
         for (int t = 0; t < TABLES; t++) {
-            store.sweep(t, ledger, Integer.MAX_VALUE);
+            store.sweep(t, ledger, NEVER);
         }
         store.forgetEnds();
         store.made = ledger.savedMade;
@@ -621,7 +624,7 @@ public final class SessionServer {
                 return NO_TABLE;
             }
             if (!work.granted && (x.heldModes(slot) >> mode & 1) == 0) {
-                int blockers = blockers(x, slot, mode, Integer.MAX_VALUE);
+                int blockers = blockers(x, slot, mode, NEVER);
                 if (blockers != 0) {
                     return beginWait(x, 0, blockers);
                 }
@@ -663,7 +666,7 @@ public final class SessionServer {
         }
         if (st.kind == INSERT) {
             finder.keepRows(work);
-        } else if (st.kind == QUERY && st.lock == 0) {
+        } else if (st.kind == QUERY && st.mode == 0) {
             finder.answer(work, st.code);
             work.done = finder.results;
             work.phase = ENDING;
@@ -696,7 +699,7 @@ public final class SessionServer {
             work.at++;
             return ON;
         }
-        int least = store.leastLock(v, x.id, st.lock != FOR_SHARE, ledger);
+        int least = store.leastLock(v, x.id, st.mode != FOR_SHARE, ledger);
         if (least > 0) {
             return beginWait(x, least, 1 << ledger.owner[least]);
         }
@@ -737,7 +740,7 @@ public final class SessionServer {
             return NO_SPACE;
         }
         Code code = x.st.code;
-        store.lockRow(v, x.id, x.st.lock, x.number[x.top], ledger);
+        store.lockRow(v, x.id, x.st.mode, x.number[x.top], ledger);
         machine.row[0] = v;
         int mark = x.work.beginFrame('D');
         for (int i = 0; i < code.exprs; i++) {
@@ -833,7 +836,7 @@ public final class SessionServer {
                 return NOT_SERIAL;
             }
         }
-        int first = Integer.MAX_VALUE;
+        int first = NEVER;
         int verdict = ON;
         for (int i = 0; i < table.versions; i++) {
             int v = table.order[i];
@@ -955,7 +958,7 @@ public final class SessionServer {
     }
 
     private int oldestSnapshot() {
-        int oldest = Integer.MAX_VALUE;
+        int oldest = NEVER;
         for (int s = 0; s < SESSIONS; s++) {
             if (sessions[s].snapshot > 0) {
                 oldest = Math.min(oldest, sessions[s].snapshot);
@@ -1152,8 +1155,12 @@ public final class SessionServer {
         }
 
         void clearLevels(int level) {
-            Arrays.fill(held, level * TABLES, LEVELS * TABLES, 0);
-            Arrays.fill(number, level, LEVELS, 0);
+            for (int l = level; l < LEVELS; l++) {
+                number[l] = 0;
+                for (int t = 0; t < TABLES; t++) {
+                    held[l * TABLES + t] = 0;
+                }
+            }
             top = level;
         }
 
@@ -1447,9 +1454,9 @@ public final class SessionServer {
         private static final int UNIQUE_BIT = 8;
         final Code code = new Code();
         // All tables from the left; the first is what INSERT fills, the query's are behind it then.
-        final int[] tableName = new int[JOINED + 1];
-        final int[] alias = new int[JOINED + 1];
+        // Their names, then their places in the store; the names that count; and which tables they are.
         final int[] slot = new int[JOINED + 1];
+        final int[] alias = new int[JOINED + 1];
         final int[] serial = new int[JOINED + 1];
         // Columns that are made, set or indexed: names, then places in their table; and their types, with bits.
         final int[] column = new int[ITEMS];
@@ -1462,15 +1469,13 @@ public final class SessionServer {
         // What PREPARE holds, otherwise the same as kind.
         int body;
         int name;
-        // A mode of table locks, or an isolation level.
+        // LOCK's mode of table locks, BEGIN's isolation level, or a query's FOR_SHARE, FOR_UPDATE or 0.
         int mode;
         int tables;
-        int first;
         int columns;
         int rows;
         int groups;
         int orders;
-        int lock;
         boolean distinct;
         long limit;
 
@@ -1481,14 +1486,12 @@ public final class SessionServer {
             name = 0;
             mode = 0;
             tables = 0;
-            first = 0;
             columns = 0;
             rows = 0;
             groups = 0;
             orders = 0;
-            lock = 0;
             distinct = false;
-            limit = Long.MAX_VALUE;
+            limit = NO_LIMIT;
         }
 
         void become(int what) {
@@ -1498,6 +1501,11 @@ public final class SessionServer {
 
         boolean isCommand() {
             return kind >= INSERT && kind <= QUERY;
+        }
+
+        /** The place of the query's first table, or of the one that UPDATE and DELETE speak of. */
+        int first() {
+            return body == INSERT ? 1 : 0;
         }
 
         boolean isQuery() {
@@ -1510,7 +1518,7 @@ public final class SessionServer {
 
         int lockMode(int table) {
             switch (kind) {
-                case QUERY: return lock == 0 ? 1 : 2;
+                case QUERY: return mode == 0 ? 1 : 2;
                 case INSERT: return table == 0 ? 3 : 1;
                 case VACUUM: return 4;
                 case CREATE_INDEX: return 5;
@@ -1521,11 +1529,11 @@ public final class SessionServer {
         }
 
         void addTable(int tableNamed, int alsoNamed) {
-            if (tables - first >= JOINED) {
+            if (tables > JOINED || tables == JOINED && body != INSERT) {
                 code.tooMany = true;
                 return;
             }
-            tableName[tables] = tableNamed;
+            slot[tables] = tableNamed;
             alias[tables] = alsoNamed != 0 ? alsoNamed : tableNamed;
             tables++;
         }
@@ -1945,9 +1953,7 @@ public final class SessionServer {
 
         private boolean insertInto() {
             at++;
-            boolean good = accept(W_INTO) && table();
-            st.first = 1;
-            return good;
+            return accept(W_INTO) && table();
         }
 
         private boolean rows() {
@@ -2088,7 +2094,7 @@ public final class SessionServer {
                 st.limit = value[at - 1];
             }
             if (accept(W_FOR)) {
-                st.lock = token[at] == W_UPDATE ? FOR_UPDATE : FOR_SHARE;
+                st.mode = token[at] == W_UPDATE ? FOR_UPDATE : FOR_SHARE;
                 return accept(W_UPDATE) || accept(W_SHARE);
             }
             return true;
@@ -2326,7 +2332,9 @@ public final class SessionServer {
             st = statement;
             code = statement.code;
             Arrays.fill(code.parameter, 0);
-            Arrays.fill(met, false);
+            for (int k = 0; k < met.length; k++) {
+                met[k] = false;
+            }
             int r = tables();
             if (r == ON) {
                 switch (st.body) {
@@ -2347,13 +2355,13 @@ public final class SessionServer {
 
         private int tables() {
             for (int i = 0; i < st.tables; i++) {
-                int slot = store.findTable(st.tableName[i]);
+                int slot = store.findTable(st.slot[i]);
                 if (slot < 0) {
                     return NO_TABLE;
                 }
                 st.slot[i] = slot;
                 st.serial[i] = store.tables[slot].serial;
-                for (int j = st.first; j < i; j++) {
+                for (int j = st.first(); j < i; j++) {
                     if (st.alias[j] == st.alias[i]) {
                         return SAME_NAME;
                     }
@@ -2420,7 +2428,7 @@ public final class SessionServer {
         private boolean starFits() {
             Table into = store.tables[st.slot[0]];
             int j = 0;
-            for (int i = st.first; i < st.tables; i++) {
+            for (int i = st.first(); i < st.tables; i++) {
                 Table table = store.tables[st.slot[i]];
                 for (int c = 0; c < table.columns; c++) {
                     if (j < into.columns && into.columnType[j] != table.columnType[c]) {
@@ -2504,7 +2512,7 @@ public final class SessionServer {
                 case N_BOOL:
                     return BOOL;
                 case N_PLACE:
-                    return store.tables[st.slot[st.first + code.left[i]]].columnType[code.right[i]];
+                    return store.tables[st.slot[st.first() + code.left[i]]].columnType[code.right[i]];
                 case N_PARAMETER:
                     int k = code.left[i];
                     int pending = met[k] ? AGAIN + k : FIRST_TIME + k;
@@ -2585,7 +2593,7 @@ public final class SessionServer {
             int found = -1;
             int column = -1;
             boolean named = code.left[i] == 0;
-            for (int t = st.first; t < st.tables; t++) {
+            for (int t = st.first(); t < st.tables; t++) {
                 if (code.left[i] != 0 && code.left[i] != st.alias[t]) {
                     continue;
                 }
@@ -2595,7 +2603,7 @@ public final class SessionServer {
                     return SEVERAL_COLUMNS;
                 }
                 if (c >= 0) {
-                    found = t - st.first;
+                    found = t - st.first();
                     column = c;
                 }
             }
@@ -2640,7 +2648,7 @@ public final class SessionServer {
 
         private int expandStar() {
             int n = 0;
-            for (int i = st.first; i < st.tables; i++) {
+            for (int i = st.first(); i < st.tables; i++) {
                 n += store.tables[st.slot[i]].columns;
             }
             if (n > ITEMS) {
@@ -2649,10 +2657,10 @@ public final class SessionServer {
             if (code.size + n > NODES) {
                 return TOO_LARGE;
             }
-            for (int i = st.first; i < st.tables; i++) {
+            for (int i = st.first(); i < st.tables; i++) {
                 Table table = store.tables[st.slot[i]];
                 for (int c = 0; c < table.columns; c++) {
-                    code.addItem(i - st.first, c, table.columnType[c]);
+                    code.addItem(i - st.first(), c, table.columnType[c]);
                 }
             }
             return ON;
@@ -2665,8 +2673,8 @@ public final class SessionServer {
                     return NOT_GROUPED;
                 }
             }
-            boolean several = st.tables - st.first > 1 || st.distinct || grouped || st.body == INSERT;
-            return st.lock != 0 && several ? NO_FOR : ON;
+            boolean several = st.tables - st.first() > 1 || st.distinct || grouped || st.body == INSERT;
+            return st.mode != 0 && several ? NO_FOR : ON;
         }
 
         /** From the right, so that what an aggregate holds is passed over behind it. */
@@ -2873,7 +2881,9 @@ public final class SessionServer {
             end[v] = 0;
             endCommand[v] = 0;
             next[v] = -1;
-            Arrays.fill(locks, v * SESSIONS * 2, (v + 1) * SESSIONS * 2, 0);
+            for (int k = 0; k < SESSIONS * 2; k++) {
+                locks[v * SESSIONS * 2 + k] = 0;
+            }
             int low = 0;
             int high = table.versions;
             for (int i = 0; i < 32 && low < high; i++) {
@@ -3250,7 +3260,7 @@ public final class SessionServer {
 
         /** Committed ones go when none that was concurrent runs; that arrows went to them is still known. */
         private void prune() {
-            int oldest = Integer.MAX_VALUE;
+            int oldest = NEVER;
             for (int a = 0; a < KEPT; a++) {
                 if (used[a] && committed[a] == 0) {
                     oldest = Math.min(oldest, began[a]);
@@ -3553,10 +3563,10 @@ public final class SessionServer {
         int find(Session x) {
             Statement st = x.st;
             machine.values = x.work.values;
-            int n = st.tables - st.first;
+            int n = st.tables - st.first();
             split(st.code);
             for (int t = 0; t < n; t++) {
-                int slot = st.slot[st.first + t];
+                int slot = st.slot[st.first() + t];
                 path(st.code, t, slot);
                 if (x.guard >= 0) {
                     serial.read(x.guard, slot, column[t], flags[t], bounds, t * 2 * CELL);
@@ -3567,7 +3577,7 @@ public final class SessionServer {
             }
             long product = 1;
             for (int t = 0; t < n; t++) {
-                gather(x, t, store.tables[st.slot[st.first + t]]);
+                gather(x, t, store.tables[st.slot[st.first() + t]]);
                 product *= Math.max(1, candidateCount[t]);
             }
             x.work.phase = st.isQuery() ? PROJECTING : SHOWING;
@@ -3659,7 +3669,9 @@ public final class SessionServer {
         private void bound(int op, int t) {
             int at = t * 2 * CELL;
             if (flags[t] == R_WHOLE) {
-                Arrays.fill(bounds, at, at + 2 * CELL, 0);
+                for (int k = 0; k < 2 * CELL; k++) {
+                    bounds[at + k] = 0;
+                }
             }
             if (flags[t] == R_EMPTY || Machine.isNull(machine.stack, 0)) {
                 flags[t] = R_EMPTY;
