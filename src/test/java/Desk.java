@@ -5,7 +5,10 @@ final class Desk {
     private static int wrong = 0;
     private static int looked = 0;
     private final String name;
-    SessionServer x = new SessionServer();
+    private int calls = 0;
+    // What an object answers behind its 512th call is free.
+    int limit = 512;
+    final SessionServer x = new SessionServer();
 
     Desk(String name) {
         this.name = name;
@@ -22,6 +25,11 @@ final class Desk {
 
     void due(String what, Object got, Object want) {
         looked++;
+        if (calls > limit) {
+            wrong++;
+            System.out.println(name + ": the document says nothing of an object after 512 calls");
+            calls = 0;
+        }
         if (!String.valueOf(got).equals(String.valueOf(want))) {
             wrong++;
             System.out.println(name + ": " + what + " answered " + got + ", due is " + want);
@@ -41,14 +49,18 @@ final class Desk {
                 }
             }
             x.feed(v[0], v[1], v[2], v[3], v[4]);
+            calls++;
         }
+        calls++;
         return x.send(s, b.length);
     }
 
     /** All bytes that are left of an answer. */
     byte[] bytes(int s) {
         java.io.ByteArrayOutputStream all = new java.io.ByteArrayOutputStream();
+        calls++;
         for (long f = x.fetch(s); f != 0; f = x.fetch(s)) {
+            calls++;
             int n = (int) (f >>> 56);
             for (int i = 0; i < n; i++) {
                 all.write((int) (f >>> (48 - 8 * i)) & 255);
@@ -109,10 +121,12 @@ final class Desk {
     }
 
     void state(int s, int want) {
+        calls++;
         due("state " + s, x.state(s), want);
     }
 
     void count(int what, int want) {
+        calls++;
         due("count " + what, x.count(what), want);
     }
 

@@ -404,13 +404,18 @@ public final class SerialTest {
         begin(d, 0);
         d.ask(0, "SELECT 1 FROM u", "i (1) (1) SELECT 2 T");
         for (int i = 1; i <= 63; i++) {
-            begin(d, 1);
-            d.ask(1, "SELECT 1 FROM u", "i (1) (1) SELECT 2 T");
-            d.ask(1, "COMMIT", "COMMIT I");
+            d.due("send", d.send(1, "BEGIN SERIALIZABLE"), 1);
+            d.due("send", d.send(1, "SELECT 1 FROM u"), 1);
+            d.due("send", d.send(1, "COMMIT"), 1);
         }
+        d.then(1, "COMMIT I");
         begin(d, 1);
         d.ask(1, "SELECT 1 FROM u", "53200 F");
         d.ask(1, "ROLLBACK", "ROLLBACK I");
+        // One that is not serializable needs no place.
+        d.ask(1, "BEGIN REPEATABLE READ", "BEGIN T");
+        d.ask(1, "SELECT 1 FROM u", "i (1) (1) SELECT 2 T");
+        d.ask(1, "COMMIT", "COMMIT I");
         d.ask(0, "COMMIT", "COMMIT I");
         begin(d, 1);
         d.ask(1, "SELECT 1 FROM u", "i (1) (1) SELECT 2 T");

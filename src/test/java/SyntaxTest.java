@@ -88,9 +88,11 @@ public final class SyntaxTest {
             "INSERT INTO t VALUES (COUNT(*))", "EXECUTE p (SUM(1))", "DELETE FROM t WHERE MIN(k) = 1",
             "SELECT k FROM t GROUP BY COUNT(*)", "SELECT k AND BETWEEN 1 AND 2 FROM t",
         };
-        for (String text : wrong) {
-            d.ask(0, text, "42601 I");
+        for (int i = 0; i < wrong.length; i++) {
+            d = i % 40 == 0 ? desk("statements") : d;
+            d.ask(0, wrong[i], "42601 I");
         }
+        d = desk("statements");
         d.ask(0, "SELECT NOT b AND b OR NOT k = 1 FROM t ORDER BY 1", "b (f) (t) (t) SELECT 3 I");
         d.ask(0, "SELECT 1 + 2 * 3 - 4 / 2 % 2, - 2 * - - 3, 'a' || 'b' || 1 || 2 FROM t", "42804 I");
         d.ask(0, "SELECT 1 + 2 * 3 - 4 / 2 % 2, - 2 * - - 3, 10 - 3 - 2 FROM t LIMIT 1", "iii (7,-6,5) SELECT 1 I");
