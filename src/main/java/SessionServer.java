@@ -438,7 +438,7 @@ public final class SessionServer {
             r = values(x, p);
             if (r == ON) {
                 byte[] text = x.preparedText[p];
-                r = parser.scan(text, text.length, st) ? parser.parse() : SYNTAX;
+                r = text != null && parser.scan(text, text.length, st) ? parser.parse() : SYNTAX;
             }
             if (r == ON) {
                 r = checker.check(st, true);
@@ -756,7 +756,7 @@ public final class SessionServer {
     private void fillRow(Session x) {
         Work work = x.work;
         Statement st = x.st;
-        if (st.rows == 0) {
+        if (work.cells != null && st.rows == 0) {
             System.arraycopy(work.cells, work.at * ROW, work.row, 0, ROW);
             return;
         }

@@ -152,9 +152,10 @@ public final class SerialTest {
     private static void sameRange() {
         Desk d = desk("same range");
         begin(d, 0, 1);
-        for (int i = 1; i <= 12; i++) {
-            d.due("send", d.send(0, i % 2 == 0 ? "SELECT v FROM t WHERE k = 101"
-                : "SELECT v FROM t WHERE k >= 101 AND k <= 101"), 1);
+        for (int i = 0; i < 16; i++) {
+            int k = 101 + i % 8;
+            d.due("send", d.send(0, i < 8 ? "SELECT v FROM t WHERE k = " + k
+                : "SELECT v FROM t WHERE k >= " + k + " AND k <= " + k), 1);
         }
         d.due("send", d.send(1, "SELECT COUNT(*) FROM u"), 1);
         d.ask(0, "INSERT INTO u VALUES (5, 5)", "INSERT 1 T");

@@ -258,6 +258,15 @@ public final class TransactionTest {
         d.ask(0, "COMMIT", "COMMIT I");
         d.then(1, "i (2) SELECT 1 I");
         d.then(2, "DELETE 1 I");
+        // Like rows are in the order of their numbers: a later one does not come before the one that is locked.
+        d.ask(0, "INSERT INTO t VALUES (NULL, 7)", "INSERT 1 I");
+        d.ask(0, "BEGIN", "BEGIN T");
+        d.ask(0, "SELECT v FROM t WHERE v = 7 LIMIT 1 FOR UPDATE", "i (7) SELECT 1 T");
+        d.ask(1, "INSERT INTO t VALUES (NULL, 7)", "INSERT 1 I");
+        d.ask(1, "SELECT v FROM t WHERE v = 7 LIMIT 1 FOR UPDATE", "waits");
+        d.ask(0, "ROLLBACK", "ROLLBACK I");
+        d.then(1, "i (7) SELECT 1 I");
+        d.ask(1, "DELETE FROM t WHERE v = 7", "DELETE 2 I");
         // A lock of a level goes with it, unless that is released.
         d.ask(0, "BEGIN", "BEGIN T");
         d.ask(0, "SAVEPOINT a", "SAVEPOINT T");
