@@ -597,11 +597,11 @@ public final class SessionServer {
                 if ((reached >> s & 1) == 0 || y.waitOrder == 0) {
                     continue;
                 }
-                if (y.waitNumber > 0) {
-                    reached |= 1 << ledger.owner[y.waitNumber];
-                } else {
+                if (y.waitNumber == 0) {
                     int i = y.work.at;
                     reached |= blockers(y, y.st.slot[i], y.st.lockMode(i), y.waitOrder);
+                } else if (ledger.status[y.waitNumber] == RUNNING) {
+                    reached |= 1 << ledger.owner[y.waitNumber];
                 }
             }
         }

@@ -4,6 +4,8 @@ public final class CallsTest {
         newObject();
         feed();
         sessions();
+        messages();
+        fetches();
         Desk.end("CallsTest");
     }
 
@@ -61,5 +63,66 @@ public final class CallsTest {
         d.due("cancel", d.x.cancel(-1), false);
         d.due("fetch of none", d.x.fetch(-1), 0);
         d.due("fetch of one that is not open", d.x.fetch(5), 0);
+    }
+
+    /** Feeds a text and sends its first n bytes alone. */
+    private static void part(Desk d, String text, int n, String want) {
+        for (int i = 0; i < text.length(); i += 20) {
+            int[] v = new int[5];
+            for (int k = 0; k < 20; k++) {
+                v[k / 4] = v[k / 4] << 8 | (i + k < text.length() ? text.charAt(i + k) : 0);
+            }
+            d.x.feed(v[0], v[1], v[2], v[3], v[4]);
+        }
+        d.due("send " + n + " of " + text, d.x.send(0, n), 1);
+        d.count(7, 0);
+        d.then(0, want);
+    }
+
+    private static void messages() {
+        Desk d = Desk.with("messages", 1);
+        d.ask(0, "CREATE TABLE t (k INT, s TEXT)", "CREATE I");
+        d.ask(0, "INSERT INTO t VALUES (12, 'a')", "INSERT 1 I");
+        // What stands behind the first n bytes is no part of the message, and gone with it.
+        part(d, "SELECT k FROM t LIMIT 10", 23, "i (12) SELECT 1 I");
+        part(d, "SELECT k FROM t LIMIT 10", 22, "42601 I");
+        part(d, "SELECT k FROM tt", 15, "i (12) SELECT 1 I");
+        part(d, "SELECT k FROM t WHERE s='a''", 27, "i (12) SELECT 1 I");
+        part(d, "SELECT k FROM t WHERE s='a'", 26, "42601 I");
+        part(d, "PREPARE p AS SELECT $1 FROM t", 21, "42601 I");
+        part(d, "SELECT k FROM t WHERE k<>5", 24, "42601 I");
+        part(d, "SELECT k FROM t WHERE k<=5", 24, "42601 I");
+        part(d, "SELECT k FROM t WHERE k>12", 25, "i (12) SELECT 1 I");
+        part(d, "PREPARE p AS SELECT k FROM t WHERE k > 123", 41, "PREPARE I");
+        d.ask(0, "EXECUTE p", "i SELECT 0 I");
+        part(d, "PREPARE q AS SELECT k FROM t WHERE k > 10 AND FALSE", 41, "PREPARE I");
+        d.ask(0, "EXECUTE q", "i (12) SELECT 1 I");
+        StringBuilder full = new StringBuilder("SELECT k FROM t WHERE k = 12");
+        while (full.length() < 2000) {
+            full.append(' ');
+        }
+        part(d, full.toString(), 2000, "i (12) SELECT 1 I");
+        part(d, full.substring(0, 1999) + ";", 2000, "i (12) SELECT 1 I");
+        part(d, full.substring(0, 1999) + "'", 2000, "42601 I");
+        part(d, full.substring(0, 1999) + "$", 2000, "42601 I");
+        part(d, full.substring(0, 1999) + "|", 2000, "42601 I");
+    }
+
+    private static void fetches() {
+        Desk d = Desk.with("fetches", 2);
+        d.due("fetch", d.x.fetch(0), 0);
+        d.send(0, "CREATE TABLE t (k INT)");
+        // C 0 6 C R E A, T E Z 0 1 I.
+        d.due("fetch", Long.toHexString(d.x.fetch(0)), "743000643524541");
+        d.due("fetch of another", d.x.fetch(1), 0);
+        d.due("fetch", Long.toHexString(d.x.fetch(0)), "654455a00014900");
+        d.due("fetch", d.x.fetch(0), 0);
+        d.send(0, "INSERT INTO t VALUES (1)");
+        d.send(0, "COMMIT");
+        // E 0 5 2 5 P 0, 1 Z 0 1 I: the answer before it is gone.
+        d.due("fetch", Long.toHexString(d.x.fetch(0)), "745000532355030");
+        d.due("fetch", Long.toHexString(d.x.fetch(0)), "5315a0001490000");
+        d.due("fetch", d.x.fetch(0), 0);
+        d.due("fetch of no session", d.x.fetch(6), 0);
     }
 }

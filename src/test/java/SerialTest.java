@@ -10,6 +10,7 @@ public final class SerialTest {
         doomedByErrors();
         gone();
         rolledBackArrows();
+        readsLater();
         uniqueReads();
         waited();
         kept();
@@ -317,6 +318,31 @@ public final class SerialTest {
         d.ask(0, "UPDATE u SET v = 9 WHERE k = 1", "UPDATE 1 T");
         d.ask(1, "ROLLBACK", "ROLLBACK I");
         d.ask(0, "COMMIT", "COMMIT I");
+    }
+
+    /** Arrows that come when A reads: by what B made, and by what B ended. */
+    private static void readsLater() {
+        String[] writes = {"DELETE FROM t WHERE k = 1", "UPDATE t SET v = 2 WHERE k = 1", "INSERT INTO t VALUES (0, 0)"};
+        String[] reads = {"k = 1", "k = 1", "k = 0"};
+        for (int i = 0; i < writes.length; i++) {
+            for (int committed = 0; committed < 2; committed++) {
+                Desk d = desk("reads later: " + writes[i] + " " + committed);
+                begin(d, 0, 1);
+                d.ask(0, "SELECT SUM(v) FROM u", "i (2) SELECT 1 T");
+                d.ask(1, "UPDATE u SET v = 3 WHERE k = 1", "UPDATE 1 T");
+                d.due("send", d.send(1, "SELECT v FROM t WHERE k = 20"), 1);
+                d.ask(0, writes[i], writes[i].substring(0, 6) + " 1 T");
+                if (committed == 1) {
+                    d.ask(0, "COMMIT", "COMMIT I");
+                    // 0 -> 1 is there; 1 -> 0 comes, 0 being committed: 0 -> 1 -> 0.
+                    d.ask(1, "SELECT v FROM t WHERE " + reads[i], "40001 F");
+                } else {
+                    d.due("send", d.send(1, "SELECT v FROM t WHERE " + reads[i]), 1);
+                    d.ask(1, "COMMIT", "COMMIT I");
+                    d.ask(0, "COMMIT", "40001 F");
+                }
+            }
+        }
     }
 
     private static void uniqueReads() {

@@ -340,6 +340,24 @@ public final class TransactionTest {
         d.ask(0, "UPDATE t SET k = 6 WHERE k = 60", "UPDATE 1 T");
         d.ask(0, "UPDATE t SET k = 1 WHERE k = 6", "23505 F");
         d.ask(0, "ROLLBACK", "ROLLBACK I");
+        // A new unique index looks at what lasts alone, and not at NULLs.
+        d.ask(0, "CREATE TABLE n (a INT)", "CREATE I");
+        d.ask(0, "INSERT INTO n VALUES (1), (NULL), (2), (NULL), (2)", "INSERT 5 I");
+        d.ask(0, "CREATE UNIQUE INDEX ON n (a)", "23505 I");
+        d.ask(0, "UPDATE n SET a = 3 WHERE a = 2", "UPDATE 2 I");
+        d.ask(0, "CREATE UNIQUE INDEX ON n (a)", "23505 I");
+        d.ask(0, "DELETE FROM n WHERE a = 3", "DELETE 2 I");
+        d.ask(0, "BEGIN", "BEGIN T");
+        d.ask(0, "INSERT INTO n VALUES (1), (1)", "INSERT 2 T");
+        d.ask(0, "ROLLBACK", "ROLLBACK I");
+        d.ask(0, "BEGIN", "BEGIN T");
+        d.ask(0, "DELETE FROM n WHERE a = 1", "DELETE 1 T");
+        d.ask(0, "ROLLBACK", "ROLLBACK I");
+        d.count(6, 1);
+        d.ask(0, "CREATE UNIQUE INDEX ON n (a)", "CREATE I");
+        d.count(6, 2);
+        d.ask(0, "INSERT INTO n VALUES (1)", "23505 I");
+        d.ask(0, "INSERT INTO n VALUES (NULL), (2), (3)", "INSERT 3 I");
         // Two unique indexes, in the order of their making.
         d.ask(0, "CREATE TABLE u (a INT UNIQUE, b INT UNIQUE)", "CREATE I");
         d.ask(0, "BEGIN", "BEGIN T");
