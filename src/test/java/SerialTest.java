@@ -199,35 +199,31 @@ public final class SerialTest {
         d.ask(1, "UPDATE u SET v = 8 WHERE k = 1", "40001 F");
     }
 
-    private static void doomedWhenOtherCommits() {
-        // 0 -> 1 -> 2, and 2 commits first: 1 is doomed, also if it has not committed nor done more.
-        Desk d = desk("pivot");
+    /** 0 -> 1 -> 2, all three running. */
+    private static Desk pivot(String name) {
+        Desk d = desk(name);
         begin(d, 0, 1, 2);
         d.ask(0, "SELECT v FROM t WHERE k = 1", "i (1) SELECT 1 T");
         d.ask(1, "SELECT v FROM t WHERE k = 2", "i (1) SELECT 1 T");
         d.ask(1, "UPDATE t SET v = 5 WHERE k = 1", "UPDATE 1 T");
         d.ask(2, "UPDATE t SET v = 5 WHERE k = 2", "UPDATE 1 T");
+        return d;
+    }
+
+    private static void doomedWhenOtherCommits() {
+        // 2 commits first: 1 is doomed, though it does nothing.
+        Desk d = pivot("pivot");
         d.ask(2, "COMMIT", "COMMIT I");
         d.ask(1, "SAVEPOINT a", "40001 F");
         d.ask(1, "ROLLBACK", "ROLLBACK I");
         d.ask(0, "COMMIT", "COMMIT I");
         // If 0 committed before, nothing is amiss.
-        d = desk("pivot, the reader first");
-        begin(d, 0, 1, 2);
-        d.ask(0, "SELECT v FROM t WHERE k = 1", "i (1) SELECT 1 T");
-        d.ask(1, "SELECT v FROM t WHERE k = 2", "i (1) SELECT 1 T");
-        d.ask(1, "UPDATE t SET v = 5 WHERE k = 1", "UPDATE 1 T");
-        d.ask(2, "UPDATE t SET v = 5 WHERE k = 2", "UPDATE 1 T");
+        d = pivot("pivot, the reader first");
         d.ask(0, "COMMIT", "COMMIT I");
         d.ask(2, "COMMIT", "COMMIT I");
         d.ask(1, "COMMIT", "COMMIT I");
         // If 1 commits first, neither.
-        d = desk("pivot, itself first");
-        begin(d, 0, 1, 2);
-        d.ask(0, "SELECT v FROM t WHERE k = 1", "i (1) SELECT 1 T");
-        d.ask(1, "SELECT v FROM t WHERE k = 2", "i (1) SELECT 1 T");
-        d.ask(1, "UPDATE t SET v = 5 WHERE k = 1", "UPDATE 1 T");
-        d.ask(2, "UPDATE t SET v = 5 WHERE k = 2", "UPDATE 1 T");
+        d = pivot("pivot, itself first");
         d.ask(1, "COMMIT", "COMMIT I");
         d.ask(2, "COMMIT", "COMMIT I");
         d.ask(0, "COMMIT", "COMMIT I");
@@ -384,12 +380,7 @@ public final class SerialTest {
 
     private static void waited() {
         // 1 waits when 2's commit dooms it; it fails behind its next read or write.
-        Desk d = desk("waited, LOCK");
-        begin(d, 0, 1, 2);
-        d.ask(0, "SELECT v FROM t WHERE k = 1", "i (1) SELECT 1 T");
-        d.ask(1, "SELECT v FROM t WHERE k = 2", "i (1) SELECT 1 T");
-        d.ask(1, "UPDATE t SET v = 5 WHERE k = 1", "UPDATE 1 T");
-        d.ask(2, "UPDATE t SET v = 5 WHERE k = 2", "UPDATE 1 T");
+        Desk d = pivot("waited, LOCK");
         d.ask(3, "BEGIN", "BEGIN T");
         d.ask(3, "LOCK u EXCLUSIVE", "LOCK T");
         d.ask(1, "LOCK u SHARE", "waits");
@@ -398,24 +389,14 @@ public final class SerialTest {
         d.ask(3, "COMMIT", "COMMIT I");
         d.then(1, "LOCK T");
         d.ask(1, "LOCK u SHARE", "40001 F");
-        d = desk("waited, query");
-        begin(d, 0, 1, 2);
-        d.ask(0, "SELECT v FROM t WHERE k = 1", "i (1) SELECT 1 T");
-        d.ask(1, "SELECT v FROM t WHERE k = 2", "i (1) SELECT 1 T");
-        d.ask(1, "UPDATE t SET v = 5 WHERE k = 1", "UPDATE 1 T");
-        d.ask(2, "UPDATE t SET v = 5 WHERE k = 2", "UPDATE 1 T");
+        d = pivot("waited, query");
         d.ask(3, "BEGIN", "BEGIN T");
         d.ask(3, "LOCK u ACCESS EXCLUSIVE", "LOCK T");
         d.ask(1, "SELECT COUNT(*) FROM u", "waits");
         d.ask(2, "COMMIT", "COMMIT I");
         d.ask(3, "COMMIT", "COMMIT I");
         d.then(1, "40001 F");
-        d = desk("waited, FOR and DELETE");
-        begin(d, 0, 1, 2);
-        d.ask(0, "SELECT v FROM t WHERE k = 1", "i (1) SELECT 1 T");
-        d.ask(1, "SELECT v FROM t WHERE k = 2", "i (1) SELECT 1 T");
-        d.ask(1, "UPDATE t SET v = 5 WHERE k = 1", "UPDATE 1 T");
-        d.ask(2, "UPDATE t SET v = 5 WHERE k = 2", "UPDATE 1 T");
+        d = pivot("waited, FOR and DELETE");
         d.ask(3, "BEGIN", "BEGIN T");
         d.ask(3, "SELECT k FROM t WHERE k = 20 FOR UPDATE", "i (20) SELECT 1 T");
         d.ask(1, "SELECT k FROM t WHERE k = 20 FOR UPDATE", "waits");
