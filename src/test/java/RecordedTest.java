@@ -3,7 +3,7 @@ import java.nio.file.Files;
 import java.nio.file.Paths;
 import java.util.List;
 
-/** Runs of src/test/data/runs.txt: what is due there was worked out by another program, written from the document. */
+/** Runs of src/test/data/runs.txt: what is due there was worked out by a second program; README.md says which. */
 public final class RecordedTest {
     public static void main(String[] args) throws java.io.IOException {
         List<String> lines = Files.readAllLines(Paths.get("src/test/data/runs.txt"), StandardCharsets.ISO_8859_1);
