@@ -2744,8 +2744,8 @@ public final class SessionServer {
         final int[] endCommand = new int[VERSIONS];
         // What came in its place, or -1.
         final int[] next = new int[VERSIONS];
-        // By version, session and kind the least number that locks it: a later one of the
-        // same transaction is never running without it.
+        // By version, session and kind the least running number that locks it. The greater ones of its
+        // transaction end with it or before it, as numbers of lower levels are less than those of higher ones.
         final int[] locks = new int[VERSIONS * SESSIONS * 2];
         final int[] free = new int[VERSIONS];
         int indexes;
@@ -2939,7 +2939,7 @@ public final class SessionServer {
 
         void lockRow(int v, int session, int kind, int by, Ledger ledger) {
             int i = (v * SESSIONS + session) * 2 + kind - 1;
-            if (ledger.status[locks[i]] != RUNNING) {
+            if (ledger.status[locks[i]] != RUNNING || by < locks[i]) {
                 locks[i] = by;
             }
         }

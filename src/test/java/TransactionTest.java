@@ -8,6 +8,9 @@ public final class TransactionTest {
         readCommitted();
         repeatableRead();
         rowLocks();
+        shareBySeveralNumbers();
+        updateBySeveralNumbers();
+        bothBySeveralNumbers();
         unique();
         uniqueRepeatable();
         commands();
@@ -304,6 +307,134 @@ public final class TransactionTest {
         d.ask(1, "SELECT k FROM t WHERE k > 4 LIMIT 1 FOR UPDATE", "waits");
         d.ask(0, "COMMIT", "COMMIT I");
         d.then(1, "i SELECT 0 I");
+    }
+
+    /** Session 0 has the least number, session 1 the next one, and a lock of row 1 that is shared. */
+    private static Desk sharing(String name) {
+        Desk d = desk(name);
+        d.ask(0, "BEGIN", "BEGIN T");
+        d.ask(0, "INSERT INTO t VALUES (9, 90)", "INSERT 1 T");
+        d.ask(1, "BEGIN", "BEGIN T");
+        d.ask(1, "SELECT k FROM t WHERE k = 1 FOR SHARE", "i (1) SELECT 1 T");
+        d.ask(2, "BEGIN", "BEGIN T");
+        d.ask(2, "UPDATE t SET v = 21 WHERE k = 2", "UPDATE 1 T");
+        d.count(3, 4);
+        return d;
+    }
+
+    private static void shareBySeveralNumbers() {
+        // Released, its number 5 is of level 0; then level 0's own number 2 locks the row, too: 2 is waited for.
+        Desk d = sharing("shared by a released level, then below it");
+        d.ask(0, "SAVEPOINT s", "SAVEPOINT T");
+        d.ask(0, "SELECT k FROM t WHERE k = 1 FOR SHARE", "i (1) SELECT 1 T");
+        d.ask(0, "RELEASE s", "RELEASE T");
+        d.ask(0, "SELECT k FROM t WHERE k = 1 FOR SHARE", "i (1) SELECT 1 T");
+        d.count(3, 5);
+        d.ask(2, "DELETE FROM t WHERE k = 1", "waits");
+        d.ask(0, "DELETE FROM t WHERE k = 2", "40P01 F");
+        // Session 0's locks are gone: session 1's number 3 is waited for now.
+        d.state(2, 6);
+        d.ask(1, "COMMIT", "COMMIT I");
+        d.then(2, "DELETE 1 T");
+
+        // Without the second lock the least number is session 1's, and session 0 may wait on session 2.
+        d = sharing("shared by a released level alone");
+        d.ask(0, "SAVEPOINT s", "SAVEPOINT T");
+        d.ask(0, "SELECT k FROM t WHERE k = 1 FOR SHARE", "i (1) SELECT 1 T");
+        d.ask(0, "RELEASE s", "RELEASE T");
+        d.ask(2, "DELETE FROM t WHERE k = 1", "waits");
+        d.ask(0, "DELETE FROM t WHERE k = 2", "waits");
+        // Then session 2 would wait for number 5, which is of session 0.
+        d.ask(1, "COMMIT", "COMMIT I");
+        d.then(2, "40P01 F");
+        d.then(0, "DELETE 1 T");
+
+        // The other way round: level 0 first, then the savepoint, whose lock goes.
+        d = sharing("shared by level 0, then above it");
+        d.ask(0, "SELECT k FROM t WHERE k = 1 FOR SHARE", "i (1) SELECT 1 T");
+        d.ask(0, "SAVEPOINT s", "SAVEPOINT T");
+        d.ask(0, "SELECT k FROM t WHERE k = 1 FOR SHARE", "i (1) SELECT 1 T");
+        d.ask(0, "ROLLBACK TO s", "ROLLBACK T");
+        d.ask(2, "DELETE FROM t WHERE k = 1", "waits");
+        d.ask(0, "SELECT k FROM t WHERE k = 2 FOR SHARE", "40P01 F");
+
+        // A lock of a level that was rolled back does not count, nor hide a later one of another number.
+        d = sharing("shared again behind ROLLBACK TO");
+        d.ask(0, "SAVEPOINT s", "SAVEPOINT T");
+        d.ask(0, "SELECT k FROM t WHERE k = 1 FOR SHARE", "i (1) SELECT 1 T");
+        d.ask(0, "ROLLBACK TO s", "ROLLBACK T");
+        d.ask(0, "SELECT k FROM t WHERE k = 1 FOR SHARE", "i (1) SELECT 1 T");
+        d.count(3, 6);
+        d.ask(1, "ROLLBACK", "ROLLBACK I");
+        d.ask(2, "DELETE FROM t WHERE k = 1", "waits");
+        d.ask(0, "ROLLBACK TO s", "ROLLBACK T");
+        d.then(2, "DELETE 1 T");
+    }
+
+    private static void updateBySeveralNumbers() {
+        Desk d = desk("locked for UPDATE by a released level, then below it");
+        d.ask(0, "BEGIN", "BEGIN T");
+        d.ask(0, "SAVEPOINT a", "SAVEPOINT T");
+        d.ask(0, "SAVEPOINT b", "SAVEPOINT T");
+        d.ask(0, "SELECT k FROM t WHERE k = 1 FOR UPDATE", "i (1) SELECT 1 T");
+        d.ask(0, "RELEASE b", "RELEASE T");
+        d.ask(0, "SELECT k FROM t WHERE k = 1 FOR UPDATE", "i (1) SELECT 1 T");
+        d.ask(0, "RELEASE a", "RELEASE T");
+        d.ask(0, "SELECT k FROM t WHERE k = 1 FOR UPDATE", "i (1) SELECT 1 T");
+        d.count(3, 4);
+        d.ask(0, "SAVEPOINT a", "SAVEPOINT T");
+        d.ask(0, "SELECT k FROM t WHERE k = 1 FOR UPDATE", "i (1) SELECT 1 T");
+        d.count(3, 5);
+        d.ask(1, "SELECT k FROM t WHERE k = 1 FOR SHARE", "waits");
+        d.ask(2, "UPDATE t SET v = 11 WHERE k = 1", "waits");
+        d.ask(0, "ROLLBACK TO a", "ROLLBACK T");
+        d.state(1, 5);
+        d.ask(0, "SELECT nosuch FROM t", "42703 F");
+        d.state(1, 5);
+        d.state(2, 5);
+        d.ask(0, "ROLLBACK", "ROLLBACK I");
+        d.then(1, "i (1) SELECT 1 I");
+        d.then(2, "UPDATE 1 I");
+
+        d = desk("locked for UPDATE by a level that goes, then by one that stays");
+        d.ask(0, "BEGIN", "BEGIN T");
+        d.ask(0, "SAVEPOINT a", "SAVEPOINT T");
+        d.ask(0, "SELECT k FROM t WHERE k = 1 FOR UPDATE", "i (1) SELECT 1 T");
+        d.ask(0, "ROLLBACK TO a", "ROLLBACK T");
+        d.ask(0, "RELEASE a", "RELEASE T");
+        d.ask(1, "SELECT k FROM t WHERE k = 1 FOR SHARE", "i (1) SELECT 1 I");
+        d.ask(0, "SELECT k FROM t WHERE k = 1 FOR UPDATE", "i (1) SELECT 1 T");
+        d.ask(1, "SELECT k FROM t WHERE k = 1 FOR SHARE", "waits");
+        d.ask(0, "COMMIT", "COMMIT I");
+        d.then(1, "i (1) SELECT 1 I");
+    }
+
+    private static void bothBySeveralNumbers() {
+        // SHARE by level 0 and UPDATE above it: what goes with the savepoint is the UPDATE alone.
+        Desk d = desk("SHARE below, UPDATE above");
+        d.ask(0, "BEGIN", "BEGIN T");
+        d.ask(0, "SELECT k FROM t WHERE k = 1 FOR SHARE", "i (1) SELECT 1 T");
+        d.ask(0, "SAVEPOINT a", "SAVEPOINT T");
+        d.ask(0, "SELECT k FROM t WHERE k = 1 FOR UPDATE", "i (1) SELECT 1 T");
+        d.ask(1, "SELECT k FROM t WHERE k = 1 FOR SHARE", "waits");
+        d.ask(2, "SELECT k FROM t WHERE k = 1 FOR UPDATE", "waits");
+        d.ask(0, "ROLLBACK TO a", "ROLLBACK T");
+        d.then(1, "i (1) SELECT 1 I");
+        d.state(2, 5);
+        d.ask(0, "COMMIT", "COMMIT I");
+        d.then(2, "i (1) SELECT 1 I");
+
+        // UPDATE by level 0 and SHARE above it: a SHARE that goes leaves the UPDATE.
+        d = desk("UPDATE below, SHARE above");
+        d.ask(0, "BEGIN", "BEGIN T");
+        d.ask(0, "SELECT k FROM t WHERE k = 1 FOR UPDATE", "i (1) SELECT 1 T");
+        d.ask(0, "SAVEPOINT a", "SAVEPOINT T");
+        d.ask(0, "SELECT k FROM t WHERE k = 1 FOR SHARE", "i (1) SELECT 1 T");
+        d.ask(1, "SELECT k FROM t WHERE k = 1 FOR SHARE", "waits");
+        d.ask(0, "ROLLBACK TO a", "ROLLBACK T");
+        d.state(1, 5);
+        d.ask(0, "COMMIT", "COMMIT I");
+        d.then(1, "i (1) SELECT 1 I");
     }
 
     private static void unique() {
