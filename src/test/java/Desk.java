@@ -130,6 +130,34 @@ final class Desk {
         due("count " + what, x.count(what), want);
     }
 
+    /** All that calls tell of the server without changing it. */
+    String all() {
+        StringBuilder b = new StringBuilder("states");
+        for (int s = 0; s < 6; s++) {
+            b.append(' ').append(x.state(s));
+        }
+        b.append(", counts");
+        for (int what = 0; what <= 8; what++) {
+            b.append(' ').append(x.count(what));
+        }
+        return b.toString();
+    }
+
+    /** A call that is refused, and changes nothing of what can be told. */
+    void refused(String what, java.util.function.Supplier<Object> call, Object want) {
+        String before = all();
+        due(what, call.get(), want);
+        due("all that can be told behind " + what, all(), before);
+    }
+
+    static String repeat(String text, int n) {
+        StringBuilder b = new StringBuilder();
+        for (int i = 0; i < n; i++) {
+            b.append(text);
+        }
+        return b.toString();
+    }
+
     /** The end of a test's main method. */
     static void end(String test) {
         System.out.println(test + ": " + looked + " answers, " + wrong + " of them wrong");
