@@ -143,6 +143,10 @@ final class Desk {
         return b.toString();
     }
 
+    int calls() {
+        return calls;
+    }
+
     /** A call that is refused, and changes nothing of what can be told. */
     void refused(String what, java.util.function.Supplier<Object> call, Object want) {
         String before = all();
