@@ -2323,6 +2323,11 @@ public final class SessionServer {
         final boolean[] met = new boolean[10];
         Statement st;
         Code code;
+        // While parameters get their types nothing is an error, and names stay names.
+        boolean asking;
+        // Where the latest place was found: its table among the statement's, or -1, and its column.
+        int foundTable;
+        int foundColumn;
 
         Checker(Store store) {
             this.store = store;
@@ -2332,11 +2337,10 @@ public final class SessionServer {
             st = statement;
             code = statement.code;
             Arrays.fill(code.parameter, 0);
-            for (int k = 0; k < met.length; k++) {
-                met[k] = false;
-            }
             int r = tables();
-            if (r == ON) {
+            int asked = code.highest > 0 ? met.length : 0;
+            for (int round = 0; round <= asked && r == ON; round++) {
+                beginRound(round < asked);
                 switch (st.body) {
                     case CREATE_INDEX: r = findSet(0); break;
                     case INSERT: r = st.rows > 0 ? rowTypes() : queryTypes(); break;
@@ -2351,6 +2355,18 @@ public final class SessionServer {
                 r = shape(preparing);
             }
             return r == ON && st.isQuery() ? grouping() : r;
+        }
+
+        /** What a parameter's first place needs may be another one's type: each time round one more of them is known. */
+        private void beginRound(boolean ask) {
+            asking = ask;
+            for (int k = 1; k <= code.highest && k < met.length; k++) {
+                if (ask) {
+                    met[k] = false;
+                } else if (met[k] && code.parameter[k] == 0) {
+                    code.parameter[k] = TEXT;
+                }
+            }
         }
 
         private int tables() {
@@ -2371,11 +2387,14 @@ public final class SessionServer {
         }
 
         private int findSet(int i) {
-            int column = store.tables[st.slot[0]].findColumn(st.column[i]);
-            if (column < 0) {
+            foundColumn = store.tables[st.slot[0]].findColumn(st.column[i]);
+            if (asking) {
+                return ON;
+            }
+            if (foundColumn < 0) {
                 return NO_COLUMN;
             }
-            st.column[i] = column;
+            st.column[i] = foundColumn;
             return ON;
         }
 
@@ -2400,13 +2419,13 @@ public final class SessionServer {
                 if (r != ON) {
                     return r;
                 }
-                code.type[e] = alone(settled(stack[0]));
+                code.type[e] = alone(stack[0]);
             }
             return ON;
         }
 
         private int queryTypes() {
-            if (code.exprs == 0 && st.body == INSERT && !starFits()) {
+            if (!asking && code.exprs == 0 && st.body == INSERT && !starFits()) {
                 return WRONG_TYPE;
             }
             for (int e = 0; e < code.exprs; e++) {
@@ -2443,11 +2462,12 @@ public final class SessionServer {
         private int setTypes() {
             for (int i = 0; i < st.columns; i++) {
                 int r = findSet(i);
+                int column = foundColumn;
                 if (r == ON) {
                     r = nodes(code.from[i], code.to[i]);
                 }
-                if (r == ON) {
-                    r = fitColumn(i, st.column[i]);
+                if (r == ON && column >= 0) {
+                    r = fitColumn(i, column);
                 }
                 if (r != ON) {
                     return r;
@@ -2461,18 +2481,18 @@ public final class SessionServer {
                 return ON;
             }
             int r = nodes(code.whereFrom, code.whereTo);
-            return r != ON ? r : needs(0, BOOL) ? ON : WRONG_TYPE;
+            return r != ON ? r : needs(0, BOOL) || asking ? ON : WRONG_TYPE;
         }
 
         /** An expression is a value of the j-th column of what is written, or an item that may have any type. */
         private int fitColumn(int e, int j) {
             Table into = store.tables[st.slot[0]];
             if (st.body == QUERY || j >= into.columns) {
-                stack[0] = alone(settled(stack[0]));
-            } else if (!needs(0, into.columnType[j])) {
+                stack[0] = alone(stack[0]);
+            } else if (!needs(0, into.columnType[j]) && !asking) {
                 return WRONG_TYPE;
             }
-            code.type[e] = settled(stack[0]);
+            code.type[e] = stack[0];
             return ON;
         }
 
@@ -2481,6 +2501,7 @@ public final class SessionServer {
             int top = 0;
             for (int i = from; i < to; i++) {
                 int op = code.op[i];
+                boolean fits = true;
                 if (op <= N_COUNT_ALL) {
                     int r = op == N_PLACE ? findPlace(i) : ON;
                     if (r != ON) {
@@ -2489,14 +2510,13 @@ public final class SessionServer {
                     stack[top] = leafType(i, op);
                     top++;
                 } else if (op <= N_MAX) {
-                    if (!fitsOne(op, top - 1)) {
-                        return WRONG_TYPE;
-                    }
+                    fits = fitsOne(op, top - 1);
                 } else {
                     top--;
-                    if (!fitsTwo(op, top - 1)) {
-                        return WRONG_TYPE;
-                    }
+                    fits = fitsTwo(op, top - 1);
+                }
+                if (!fits && !asking) {
+                    return WRONG_TYPE;
                 }
             }
             return ON;
@@ -2512,41 +2532,40 @@ public final class SessionServer {
                 case N_BOOL:
                     return BOOL;
                 case N_PLACE:
-                    return store.tables[st.slot[st.first() + code.left[i]]].columnType[code.right[i]];
+                    return foundTable < 0 ? 0 : store.tables[st.slot[foundTable]].columnType[foundColumn];
                 case N_PARAMETER:
                     int k = code.left[i];
-                    int pending = met[k] ? AGAIN + k : FIRST_TIME + k;
+                    int unknown = met[k] ? AGAIN + k : FIRST_TIME + k;
                     met[k] = true;
-                    return pending;
+                    return code.parameter[k] != 0 ? code.parameter[k] : unknown;
                 default:
                     return 0;
             }
         }
 
-        /** The type that is known by now, or a parameter that has none yet. */
-        private int settled(int type) {
-            int known = type > FIRST_TIME ? code.parameter[type % 10] : type;
-            return type > FIRST_TIME && known == 0 ? type : known;
-        }
-
         private boolean needs(int at, int needed) {
             int type = stack[at];
-            if (type > FIRST_TIME) {
-                int k = type % 10;
-                code.parameter[k] = code.parameter[k] == 0 ? needed : code.parameter[k];
-                type = code.parameter[k];
-            }
             stack[at] = needed;
-            return type == 0 || type == needed;
+            if (type > FIRST_TIME && type < AGAIN) {
+                code.parameter[type - FIRST_TIME] = needed;
+            }
+            return type > FIRST_TIME || type == 0 || type == needed;
         }
 
-        /** Where any type would do; a parameter that comes again waits for what its first place needs. */
+        /** Where any type would do. */
         private int alone(int type) {
             if (type > FIRST_TIME && type < AGAIN) {
-                code.parameter[type % 10] = TEXT;
+                code.parameter[type - FIRST_TIME] = TEXT;
                 return TEXT;
             }
             return type;
+        }
+
+        /** A parameter takes the type of the other side, if that has one or is of no type. */
+        private void take(int type, int other) {
+            if (type > FIRST_TIME && type < AGAIN && other < FIRST_TIME) {
+                code.parameter[type - FIRST_TIME] = other == 0 ? TEXT : other;
+            }
         }
 
         private boolean fitsOne(int op, int at) {
@@ -2558,10 +2577,10 @@ public final class SessionServer {
                     return needs(at, BOOL);
                 case N_MIN:
                 case N_MAX:
-                    stack[at] = settled(stack[at]);
-                    return stack[at] > FIRST_TIME ? needs(at, TEXT) : stack[at] != BOOL;
+                    stack[at] = alone(stack[at]);
+                    return stack[at] != BOOL;
                 default:
-                    alone(settled(stack[at]));
+                    alone(stack[at]);
                     stack[at] = op == N_COUNT ? INT : BOOL;
                     return true;
             }
@@ -2570,48 +2589,42 @@ public final class SessionServer {
         private boolean fitsTwo(int op, int at) {
             if (op < N_EQ || op > N_GE) {
                 int needed = op >= N_PLUS ? INT : op == N_JOIN ? TEXT : BOOL;
-                return needs(at, needed) && needs(at + 1, needed);
+                boolean left = needs(at, needed);
+                return needs(at + 1, needed) && left;
             }
-            int a = settled(stack[at]);
-            int b = settled(stack[at + 1]);
-            // Beside NULL any type would do; otherwise a parameter takes the other side's type.
-            a = b == 0 ? alone(a) : a;
-            b = a == 0 ? alone(b) : b;
-            boolean good = a == 0 || b == 0 || a == b;
-            if (a > FIRST_TIME && b > 0) {
-                good = needs(at, b > FIRST_TIME ? TEXT : b);
-            }
-            if (b > FIRST_TIME && a > 0) {
-                good = needs(at + 1, a > FIRST_TIME ? TEXT : a);
-            }
+            int a = stack[at];
+            int b = stack[at + 1];
+            take(a, b);
+            take(b, a);
             stack[at] = BOOL;
-            return good;
+            return a == 0 || b == 0 || a == b;
         }
 
         /** Names become places: the table's among the query's, and the column's in it. */
         private int findPlace(int i) {
-            int found = -1;
-            int column = -1;
+            foundTable = -1;
             boolean named = code.left[i] == 0;
+            boolean several = false;
             for (int t = st.first(); t < st.tables; t++) {
                 if (code.left[i] != 0 && code.left[i] != st.alias[t]) {
                     continue;
                 }
                 named = true;
                 int c = store.tables[st.slot[t]].findColumn(code.right[i]);
-                if (c >= 0 && found >= 0) {
-                    return SEVERAL_COLUMNS;
-                }
+                several |= c >= 0 && foundTable >= 0;
                 if (c >= 0) {
-                    found = t - st.first();
-                    column = c;
+                    foundTable = t;
+                    foundColumn = c;
                 }
             }
-            if (found < 0) {
-                return named ? NO_COLUMN : NO_TABLE;
+            if (asking) {
+                return ON;
             }
-            code.left[i] = found;
-            code.right[i] = column;
+            if (several || foundTable < 0) {
+                return several ? SEVERAL_COLUMNS : named ? NO_COLUMN : NO_TABLE;
+            }
+            code.left[i] = foundTable - st.first();
+            code.right[i] = foundColumn;
             return ON;
         }
 

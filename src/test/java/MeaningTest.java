@@ -241,6 +241,7 @@ public final class MeaningTest {
         d.ask(0, "PREPARE f AS SELECT k FROM t WHERE $1 = ($1 IS NULL)", "PREPARE I");
         d.ask(0, "EXECUTE f (FALSE)", "i (1) SELECT 1 I");
         d.ask(0, "EXECUTE f ('a')", "42804 I");
+        firstPlaces();
         d.ask(0, "PREPARE g AS INSERT INTO t VALUES ($1, $2, $3)", "PREPARE I");
         d.ask(0, "EXECUTE g (2, 'b', FALSE)", "INSERT 1 I");
         d.ask(0, "EXECUTE g ('b', 2, FALSE)", "42804 I");
@@ -248,6 +249,36 @@ public final class MeaningTest {
         d.ask(0, "EXECUTE h (3, NULL, FALSE)", "INSERT 1 I");
         d.ask(0, "PREPARE i AS INSERT INTO t SELECT $1, $2, $3, $4 FROM u", "42601 I");
         d.ask(0, "SELECT k, s, b FROM t", "itb (1,a,t) (2,b,f) (3,~,f) SELECT 3 I");
+    }
+
+    /** The first place tells the type, also where it is worked on behind a later place. */
+    private static void firstPlaces() {
+        String[][] rows = {
+            {"$1 AND ($1 = $1)", "TRUE", "b (t)"},
+            {"$1 = ($1 = $1)", "FALSE", "b (f)"},
+            {"$1 = ($1 IS NULL)", "FALSE", "b (t)"},
+            {"$1 + MIN($1)", "5", "i (10)"},
+            {"$1 || MAX($1)", "'a'", "t (aa)"},
+            {"$1 = MIN($1)", "'a'", "b (t)"},
+            {"$2 AND ($1 = $2)", "TRUE, TRUE", "b (t)"},
+            {"$2 + 1 = 2 AND $1 = $2", "1, 1", "b (t)"},
+            {"$1 = $2", "'a', 'b'", "b (f)"},
+            {"($1 = $2) = ($3 = $1)", "'a', 'b', 'a'", "b (f)"},
+            {"$3 = ($2 = ($1 = $3))", "TRUE, TRUE, TRUE", "b (t)"},
+            {"$1 = COUNT($2)", "1, 'x'", "b (t)"},
+            {"$1 IN ($2, 5)", "'a', 'b'", ""},
+            {"$1 IN (5, $2)", "1, 1", "b (t)"},
+            {"$1 AND ($1 + 1 = 2)", "", ""},
+            {"$1 AND ($1 + 1 = x)", "", ""},
+            {"$1 AND MIN($1) = 'a'", "", ""},
+        };
+        for (String[] row : rows) {
+            Desk d = desk("first places: " + row[0]);
+            d.ask(0, "PREPARE p AS SELECT " + row[0] + " FROM t", row[2].isEmpty() ? "42804 I" : "PREPARE I");
+            if (!row[2].isEmpty()) {
+                d.ask(0, "EXECUTE p (" + row[1] + ")", row[2] + " SELECT 1 I");
+            }
+        }
     }
 
     private static void execute() {
