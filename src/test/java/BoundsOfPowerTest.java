@@ -355,6 +355,19 @@ public final class BoundsOfPowerTest {
         d.ask(0, "SELECT COUNT(*) FROM t", "i (2) SELECT 1 T");
         d.ask(0, "INSERT INTO t VALUES (5, 5)", "INSERT 1 T");
         d.ask(0, "COMMIT", "COMMIT I");
+        // Numbers are given anew: a row that such a number had locked or ended is free.
+        d = desk("numbers given anew");
+        d.ask(1, "BEGIN", "BEGIN T");
+        d.ask(1, "SELECT k FROM t WHERE k = 1 FOR UPDATE", "i (1) SELECT 1 T");
+        d.ask(1, "DELETE FROM t WHERE k = 2", "DELETE 1 T");
+        d.count(3, 2);
+        d.x.charge(0);
+        d.ask(0, "CHECKPOINT", "power");
+        up(d);
+        d.ask(0, "BEGIN", "BEGIN T");
+        d.ask(0, "INSERT INTO t VALUES (3, 30)", "INSERT 1 T");
+        d.count(3, 2);
+        d.ask(2, "UPDATE t SET v = 0 WHERE k < 3", "UPDATE 2 I");
     }
 
     private static void downAndUpAgain() {

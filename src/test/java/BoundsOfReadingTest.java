@@ -4,6 +4,8 @@ public final class BoundsOfReadingTest {
 
     public static void main(String[] args) {
         semicolons();
+        wordsAlone();
+        partsMissing();
         optionalParts();
         depthOfBrackets();
         depthOfSigns();
@@ -71,6 +73,44 @@ public final class BoundsOfReadingTest {
         d.ask(0, "PREPARE p AS SELECT k FROM t;", "PREPARE I");
         d.ask(0, "EXECUTE p;", "i (1) SELECT 1 I");
         d.ask(0, "PREPARE q AS SELECT k FROM t;;", "42601 I");
+    }
+
+    private static void wordsAlone() {
+        Desk d = desk("words alone");
+        String[] words = ("CREATE TABLE NOT NULL UNIQUE INT TEXT BOOL INDEX ON DROP INSERT INTO VALUES UPDATE SET WHERE DELETE "
+            + "FROM SELECT DISTINCT GROUP BY ORDER DESC LIMIT FOR SHARE READ COMMITTED REPEATABLE SERIALIZABLE SAVEPOINT TO "
+            + "RELEASE LOCK PREPARE AS EXECUTE VACUUM ACCESS ROW EXCLUSIVE OR AND IS BETWEEN IN TRUE FALSE COUNT SUM MIN MAX "
+            + "a 1 $1 '' ( ) , . ; * = <> < <= > >= + - / % ||").split(" ");
+        for (String word : words) {
+            d.ask(0, word, "42601 I");
+        }
+    }
+
+    private static void partsMissing() {
+        Desk d = desk("parts missing");
+        String[] texts = {"CREATE TABLE w (INT)", "CREATE TABLE w (a TABLE)", "CREATE TABLE w (a UNIQUE)", "CREATE TABLE w (a INDEX)",
+            "CREATE TABLE w (a INT b INT)", "CREATE TABLE w a INT", "CREATE TABLE (a INT)", "CREATE INDEX ON t ()",
+            "CREATE INDEX ON (k)", "CREATE UNIQUE ON t (k)", "CREATE INDEX t (k)", "INSERT INTO t", "INSERT INTO t VALUES (1, 'a', TRUE",
+            "INSERT INTO t VALUES (1, 'a', TRUE), (2, 'a', TRUE", "INSERT INTO t VALUES 1, 'a', TRUE)", "UPDATE t SET k =",
+            "UPDATE t SET = 1", "UPDATE t SET k = 1 s = 'a'", "UPDATE SET k = 1", "DELETE FROM", "DELETE FROM WHERE TRUE",
+            "SELECT COUNT FROM t", "SELECT SUM FROM t", "SELECT COUNT( FROM t", "SELECT COUNT(* FROM t", "SELECT MIN(k FROM t",
+            "SELECT k BETWEEN AND 2 FROM t", "SELECT k BETWEEN 1 AND FROM t", "SELECT k BETWEEN 1 2 FROM t",
+            "SELECT k FROM t WHERE k BETWEEN", "SELECT k IN (1 FROM t", "SELECT k IN (,1) FROM t", "SELECT k IN (1,) FROM t",
+            "SELECT (k FROM t", "SELECT k) FROM t", "SELECT k = FROM t", "SELECT = k FROM t", "SELECT k IS FROM t",
+            "SELECT k IS NOT FROM t", "SELECT NOT FROM t", "SELECT - FROM t", "SELECT " + in("-", 21, "", "") + " FROM t",
+            "SELECT " + in("NOT ", 21, "", "") + " FROM t", "SELECT k FROM t ORDER BY 1,", "SELECT k FROM t GROUP BY k,",
+            "SELECT k FROM t GROUP BY k.", "SELECT .k FROM t", "SELECT k FROM t LIMIT 'a'", "SELECT k FROM , t", "SELECT k FROM t t t",
+            "LOCK SHARE", "LOCK t SHARE EXCLUSIVE", "LOCK t ROW UPDATE EXCLUSIVE", "LOCK t ACCESS ROW SHARE", "PREPARE p AS (SELECT k FROM t)",
+            "EXECUTE p 1", "EXECUTE p (1 2)", "EXECUTE p (1),", "RELEASE a b", "ROLLBACK a", "ROLLBACK TO SAVEPOINT a", "BEGIN WORK"};
+        for (int i = 0; i < texts.length; i++) {
+            d = i % 50 == 49 ? desk("parts missing") : d;
+            d.ask(0, texts[i], "42601 I");
+        }
+        // What was read wrong leaves nothing behind: aggregates are in items alone.
+        d.ask(0, "SELECT k + FROM t", "42601 I");
+        d.ask(0, "DELETE FROM t WHERE COUNT(*) = 1", "42601 I");
+        d.ask(0, "UPDATE t SET k = MAX(k)", "42601 I");
+        d.count(1, 1);
     }
 
     // "([ ] may be there, { } any number of times, also none)"
@@ -478,6 +518,15 @@ public final class BoundsOfReadingTest {
         d.ask(0, "SELECT a.s FROM t a, t c WHERE c.k = 1 GROUP BY s", "42702 I");
         d.ask(0, "SELECT x.k FROM t, u", "42P01 I");
         d.ask(0, "SELECT t.w FROM t, u", "42703 I");
+        // Of three tables the third has none, and still it is one of several.
+        d.ask(0, "CREATE TABLE v (z INT)", "CREATE I");
+        d.ask(0, "SELECT k FROM t, u, v", "42702 I");
+        d.ask(0, "SELECT k FROM v, t, u", "42702 I");
+        d.ask(0, "SELECT k FROM v, t", "i SELECT 0 I");
+        // A table in the place of another has its own columns alone.
+        d.ask(0, "DROP TABLE u", "DROP I");
+        d.ask(0, "CREATE TABLE u (k INT)", "CREATE I");
+        d.ask(0, "SELECT w FROM u", "42703 I");
     }
 
     // "42P07 there is one of this name, 54023 there are 8 tables"

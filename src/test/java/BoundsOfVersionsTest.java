@@ -29,6 +29,7 @@ public final class BoundsOfVersionsTest {
         uniqueOfNull();
         uniqueIndexOverVersions();
         uniqueByNumbers();
+        inThePlaceOfAnother();
         errorsOfLevels();
         Desk.end("BoundsOfVersionsTest");
     }
@@ -591,6 +592,40 @@ public final class BoundsOfVersionsTest {
         d.ask(1, "INSERT INTO t VALUES (2, 0)", "23505 F");
         d.ask(1, "ROLLBACK TO a", "ROLLBACK T");
         d.ask(1, "INSERT INTO t VALUES (4, 0)", "INSERT 1 T");
+        // The lower number is ended by a committed one that is not seen, the higher one made by a running one: in either
+        // order of their values the lower number is looked at first.
+        for (int v = 5; v <= 15; v += 10) {
+            d = desk("by their numbers, whatever their values: " + v);
+            d.ask(1, "BEGIN REPEATABLE READ", "BEGIN T");
+            d.ask(1, "SELECT COUNT(*) FROM t", "i (2) SELECT 1 T");
+            d.ask(0, "DELETE FROM t WHERE k = 1", "DELETE 1 I");
+            d.ask(2, "BEGIN", "BEGIN T");
+            d.ask(2, "INSERT INTO t VALUES (1, " + v + ")", "INSERT 1 T");
+            d.ask(1, "INSERT INTO t VALUES (1, 0)", "40001 F");
+        }
+        // And the other way round: it waits for the lower number's end, though the higher one is there to stay.
+        for (int v = 5; v <= 15; v += 10) {
+            d = desk("by their numbers, waiting first: " + v);
+            d.ask(0, "BEGIN", "BEGIN T");
+            d.ask(0, "DELETE FROM t WHERE k = 1", "DELETE 1 T");
+            d.ask(0, "INSERT INTO t VALUES (1, " + v + ")", "INSERT 1 T");
+            d.ask(1, "INSERT INTO t VALUES (1, 0)", "waits");
+            d.ask(0, "COMMIT", "COMMIT I");
+            d.then(1, "23505 I");
+        }
+    }
+
+    // "if a version came in its place, that is v from now on", wherever it is held.
+    private static void inThePlaceOfAnother() {
+        Desk d = desk("in the place of a vacuumed one");
+        d.ask(0, "DELETE FROM t WHERE k = 1", "DELETE 1 I");
+        d.ask(0, "VACUUM t", "VACUUM 1 I");
+        d.ask(0, "BEGIN", "BEGIN T");
+        d.ask(0, "UPDATE t SET v = 21 WHERE k = 2", "UPDATE 1 T");
+        d.ask(1, "UPDATE t SET v = v + 1 WHERE k = 2", "waits");
+        d.ask(0, "COMMIT", "COMMIT I");
+        d.then(1, "UPDATE 1 I");
+        d.ask(0, "SELECT v FROM t", "i (22) SELECT 1 I");
     }
 
     // "all of the level on top is undone as by ROLLBACK TO (...; level 0: as ROLLBACK: locks, snapshot and reads are gone)"

@@ -8,6 +8,7 @@ public final class BoundsOfWaitingTest {
         behindOneThatAsked();
         besideOneThatAsked();
         fromTheLeft();
+        oneWaitForEach();
         droppedWhileItWaits();
         droppedBehindAnotherWait();
         anotherOfThatName();
@@ -19,6 +20,7 @@ public final class BoundsOfWaitingTest {
         ringOfTwo();
         ringOfSix();
         ringOfLocks();
+        ringOfOneOfSeveral();
         ringOfRequests();
         ringOfOneStatement();
         noRingBehindAnEnd();
@@ -155,6 +157,19 @@ public final class BoundsOfWaitingTest {
         d.ask(2, "DROP TABLE t", "DROP I");
         d.ask(0, "COMMIT", "COMMIT I");
         d.then(3, "42P01 I");
+    }
+
+    // A table lock that is had says nothing of the next one.
+    private static void oneWaitForEach() {
+        Desk d = desk("one wait for each table");
+        begin(d, 0, 2);
+        d.ask(0, "LOCK t ACCESS EXCLUSIVE", "LOCK T");
+        d.ask(2, "LOCK u ACCESS EXCLUSIVE", "LOCK T");
+        d.ask(1, "SELECT 1 FROM t, u", "waits");
+        d.ask(0, "COMMIT", "COMMIT I");
+        d.state(1, 5);
+        d.ask(2, "COMMIT", "COMMIT I");
+        d.then(1, "i SELECT 0 I");
     }
 
     // "When a table is dropped, statements that wait for it go on with 42P01"
@@ -351,6 +366,27 @@ public final class BoundsOfWaitingTest {
         d.state(0, 6);
         d.ask(1, "COMMIT", "COMMIT I");
         d.then(0, "DELETE 6 T");
+    }
+
+    // Of several that are in the way any one may close the ring, whatever the others wait on.
+    private static void ringOfOneOfSeveral() {
+        for (int closing = 0; closing < 2; closing++) {
+            for (int way = 0; way < 2; way++) {
+                Desk d = desk("a ring by one of two, " + closing + way);
+                int other = 1 - closing;
+                begin(d, 0, 1, 2, 3);
+                d.ask(0, "LOCK t SHARE", "LOCK T");
+                d.ask(1, "LOCK t SHARE", "LOCK T");
+                d.ask(2, way == 0 ? "LOCK u EXCLUSIVE" : "SELECT k FROM t WHERE k = 2 FOR UPDATE",
+                    way == 0 ? "LOCK T" : "i (2) SELECT 1 T");
+                d.ask(3, "SELECT k FROM t WHERE k = 3 FOR UPDATE", "i (3) SELECT 1 T");
+                d.ask(other, way == 0 ? "LOCK u SHARE" : "SELECT k FROM t WHERE k = 2 FOR UPDATE", "waits");
+                d.ask(closing, "SELECT k FROM t WHERE k = 3 FOR UPDATE", "waits");
+                d.ask(3, "LOCK t ROW EXCLUSIVE", "40P01 F");
+                d.then(closing, "i (3) SELECT 1 T");
+                d.state(other, 6);
+            }
+        }
     }
 
     // "or asked for earlier, what is in its way"

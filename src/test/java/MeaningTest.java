@@ -271,6 +271,13 @@ public final class MeaningTest {
             {"$1 AND ($1 + 1 = 2)", "", ""},
             {"$1 AND ($1 + 1 = x)", "", ""},
             {"$1 AND MIN($1) = 'a'", "", ""},
+            {"MIN($1) + 1", "", ""},
+            {"MIN($1) = 1", "", ""},
+            {"MIN($1) || 'b'", "'a'", "t (ab)"},
+            {"COUNT($1) + $1", "", ""},
+            {"($1 IS NULL) = $1", "", ""},
+            {"($1 = NULL) = $1", "", ""},
+            {"($1 = MAX(NULL)) = $1", "", ""},
         };
         for (String[] row : rows) {
             Desk d = desk("first places: " + row[0]);
