@@ -35,6 +35,7 @@ public final class BoundsOfReadingTest {
         eightTables();
         eightIndexes();
         eightIndexesBehindTheLock();
+        indexesOfATableThatIsDropped();
         eightPrepared();
         sevenSavepoints();
         noSuchSavepoint();
@@ -570,6 +571,11 @@ public final class BoundsOfReadingTest {
         d.ask(0, "INSERT INTO v VALUES (2,2,2,2,2,2,1,1)", "23505 I");
         d.ask(0, "INSERT INTO v VALUES (1,2,2,2,2,2,2,1)", "23505 I");
         d.ask(0, "INSERT INTO v VALUES (2,2,2,2,2,2,2,1)", "INSERT 1 I");
+        d.ask(0, "SELECT g FROM v WHERE g = 2", "i (2) SELECT 1 I");
+        d.ask(0, "SELECT g FROM v WHERE h = 1 AND g > 0", "i (1) (2) SELECT 2 I");
+        d.ask(0, "SELECT g FROM v WHERE h = 1", "i (1) (2) SELECT 2 I");
+        d.ask(0, "UPDATE v SET g = g + 1 WHERE a < 2", "23505 I");
+        d.ask(0, "DELETE FROM v WHERE h = 1", "DELETE 2 I");
     }
 
     // "CREATE INDEX 54023 there are 8 (looked at when it has its lock)"
@@ -590,6 +596,26 @@ public final class BoundsOfReadingTest {
         d.ask(0, "COMMIT", "COMMIT I");
         d.then(1, "CREATE I");
         d.count(6, 1);
+    }
+
+    // The indexes of the other tables stay as they are.
+    private static void indexesOfATableThatIsDropped() {
+        Desk d = Desk.with("indexes of a table that is dropped", 1);
+        d.ask(0, "CREATE TABLE a (x INT UNIQUE, y INT, z INT UNIQUE)", "CREATE I");
+        d.ask(0, "CREATE TABLE b (x INT, y INT UNIQUE, z INT)", "CREATE I");
+        d.ask(0, "CREATE INDEX ON b (z)", "CREATE I");
+        d.ask(0, "CREATE TABLE c (x INT UNIQUE)", "CREATE I");
+        d.ask(0, "DROP TABLE a", "DROP I");
+        d.count(6, 3);
+        d.ask(0, "INSERT INTO b VALUES (1, 1, 1), (1, 2, 1)", "INSERT 2 I");
+        d.ask(0, "INSERT INTO b VALUES (9, 2, 9)", "23505 I");
+        d.ask(0, "INSERT INTO c VALUES (1), (2)", "INSERT 2 I");
+        d.ask(0, "INSERT INTO c VALUES (2)", "23505 I");
+        d.ask(0, "CREATE TABLE a (x INT, y INT, z INT)", "CREATE I");
+        d.ask(0, "INSERT INTO a VALUES (1, 1, 1), (1, 1, 1)", "INSERT 2 I");
+        d.ask(0, "DROP TABLE b", "DROP I");
+        d.count(6, 1);
+        d.ask(0, "INSERT INTO c VALUES (1)", "23505 I");
     }
 
     // "PREPARE 42P05 the session has one of this name, 54023 it has 8."
@@ -675,6 +701,12 @@ public final class BoundsOfReadingTest {
         d.ask(0, "PREPARE n AS SELECT k FROM t", "PREPARE I");
         d.ask(0, "EXECUTE n", "i (1) SELECT 1 I");
         d.ask(0, "EXECUTE n (NULL)", "42601 I");
+        // Each session has its own values.
+        d.ask(1, "PREPARE p AS SELECT s FROM t WHERE k = $1", "PREPARE I");
+        d.ask(0, "EXECUTE p (7, 2, 'a')", "i SELECT 0 I");
+        d.ask(1, "EXECUTE p (1)", "t (a) SELECT 1 I");
+        d.ask(0, "EXECUTE p (1, 2, 'a')", "i (1) SELECT 1 I");
+        d.ask(1, "EXECUTE p (2)", "t SELECT 0 I");
     }
 
     // "then its statement is read anew, with the errors of MEANING, ... and behind these errors 42804"

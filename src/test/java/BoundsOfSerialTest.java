@@ -27,7 +27,13 @@ public final class BoundsOfSerialTest {
         undone();
         rolledBack();
         knownWhenNotKept();
+        noOtherWhenNotKept();
+        arrowsToSeveral();
+        arrowsOfOneRead();
+        committedAndRunning();
+        goneWithThePower();
         sixtyFour();
+        goneWithTheLongOne();
         sixtyFourRunningToo();
         rolledBackAreNotKept();
         doomedFromItsSnapshotOn();
@@ -121,6 +127,10 @@ public final class BoundsOfSerialTest {
         readsB("b > 5 AND b >= 5", 5, false);
         readsB("b <= 5 AND b < 5", 5, false);
         readsB("b < 5 AND b <= 5", 5, false);
+        readsB("b >= 5 AND b > 5", 6, true);
+        readsB("b > 5 AND b >= 5", 6, true);
+        readsB("b <= 5 AND b < 5", 4, true);
+        readsB("b < 5 AND b <= 5", 4, true);
         readsB("b >= 5 AND b >= 5", 5, true);
         readsB("b > 5 AND b >= 6", 6, true);
         readsB("b BETWEEN 5 AND 7 AND b > 5", 5, false);
@@ -256,6 +266,15 @@ public final class BoundsOfSerialTest {
             good(d, 0, "SELECT COUNT(*) FROM t WHERE b BETWEEN " + i + " AND " + i + " AND b < 50");
         }
         arrow(d, "INSERT INTO t VALUES (1,99,1,1,'a',TRUE)", false);
+        // Ranges with one bound, or with the other.
+        d = desk("the same range of one bound");
+        begin(d, 0);
+        for (int i = 1; i <= 6; i++) {
+            good(d, 0, "SELECT COUNT(*) FROM t WHERE b = " + i);
+            good(d, 0, "SELECT COUNT(*) FROM t WHERE b > 100");
+            good(d, 0, "SELECT COUNT(*) FROM t WHERE b < -100");
+        }
+        arrow(d, "INSERT INTO t VALUES (1,99,1,1,'a',TRUE)", false);
         d = desk("ranges that differ in a bound's being in it");
         begin(d, 0);
         String[] nine = {"b > 1 AND b < 5", "b >= 1 AND b < 5", "b > 1 AND b <= 5", "b >= 1 AND b <= 5", "b > 1", "b >= 1",
@@ -372,6 +391,15 @@ public final class BoundsOfSerialTest {
         d.ask(2, "DROP TABLE t", "DROP I");
         d.ask(2, "CREATE TABLE t (a INT)", "CREATE I");
         arrow(d, "INSERT INTO t VALUES (1)", false);
+        // The indexes of a dropped table are none of the new one's.
+        d = Desk.with("a table in the place of one with an index", 4);
+        d.ask(0, "CREATE TABLE u (k INT)", "CREATE I");
+        d.ask(0, "CREATE TABLE t (a INT, b INT UNIQUE)", "CREATE I");
+        d.ask(0, "DROP TABLE t", "DROP I");
+        d.ask(0, "CREATE TABLE t (a INT, b INT)", "CREATE I");
+        begin(d, 0);
+        good(d, 0, "SELECT COUNT(*) FROM t WHERE b = 5");
+        arrow(d, "INSERT INTO t VALUES (1, 6)", true);
         // Without the drop ROLLBACK TO takes no read away.
         d = desk("a table that was not dropped");
         begin(d, 0);
@@ -539,6 +567,96 @@ public final class BoundsOfSerialTest {
         d.ask(1, "COMMIT", "COMMIT I");
         // Only 0 runs, and it began behind 2's commit: 2 is not kept, but 1 -> 2 is known.
         d.ask(0, "SELECT COUNT(*) FROM t WHERE b = 1", "40001 F");
+    }
+
+    // What is not kept any more leaves the other arrows as they are.
+    private static void noOtherWhenNotKept() {
+        Desk d = desk("no other arrow than the one that was there");
+        begin(d, 1, 2);
+        good(d, 1, "SELECT COUNT(*) FROM t WHERE b = 2");
+        good(d, 2, "INSERT INTO t VALUES (NULL,2,1,1,'a',TRUE)");
+        d.ask(2, "COMMIT", "COMMIT I");
+        begin(d, 0, 3);
+        good(d, 0, "SELECT COUNT(*) FROM t WHERE b = 50");
+        good(d, 3, "INSERT INTO u VALUES (1)");
+        d.ask(3, "COMMIT", "COMMIT I");
+        d.ask(1, "COMMIT", "COMMIT I");
+        d.ask(0, "SELECT COUNT(*) FROM u", "i (0) SELECT 1 T");
+        d.ask(0, "COMMIT", "COMMIT I");
+    }
+
+    // One arrow does not take the place of another.
+    private static void arrowsToSeveral() {
+        for (int last = 1; last <= 2; last++) {
+            Desk d = desk("0 -> 1 and 0 -> 2, the last being " + last);
+            begin(d, 0, 1, 2, 3);
+            good(d, 0, "SELECT COUNT(*) FROM t WHERE b = 1 OR b = 2");
+            good(d, 3, "SELECT COUNT(*) FROM u");
+            int first = 3 - last;
+            good(d, first, "INSERT INTO t VALUES (NULL," + first + ",1,1,'a',TRUE)");
+            good(d, last, "INSERT INTO t VALUES (NULL," + last + ",1,1,'a',TRUE)");
+            good(d, 0, "INSERT INTO u VALUES (1)");
+            d.ask(1, "COMMIT", "COMMIT I");
+            d.ask(0, "COMMIT", "40001 F");
+        }
+    }
+
+    // "(there before or not; all of them come)": of all the versions in a read's range.
+    private static void arrowsOfOneRead() {
+        for (int row = 1; row <= 3; row += 2) {
+            Desk d = desk("arrows of one read, the danger's row being " + row);
+            begin(d, 0, 1, 2, 3);
+            good(d, 0, "SELECT COUNT(*) FROM u");
+            good(d, 1, "INSERT INTO u VALUES (1)");
+            good(d, 3, "INSERT INTO t VALUES (2,1,1,1,'a',TRUE)");
+            good(d, 2, "INSERT INTO t VALUES (" + row + ",1,1,1,'a',TRUE)");
+            d.ask(2, "COMMIT", "COMMIT I");
+            d.ask(1, "SELECT COUNT(*) FROM t WHERE b = 1", "40001 F");
+        }
+    }
+
+    // P -> B with B committed counts, whatever other arrow P has.
+    private static void committedAndRunning() {
+        for (int committed = 2; committed <= 3; committed++) {
+            Desk d = desk("1 -> 2 and 1 -> 3, committed is " + committed);
+            begin(d, 0, 1, 2, 3);
+            good(d, 0, "SELECT COUNT(*) FROM t WHERE b = 1");
+            good(d, 1, "SELECT COUNT(*) FROM t WHERE b = 2 OR b = 3");
+            good(d, 2, "INSERT INTO t VALUES (NULL,2,1,1,'a',TRUE)");
+            good(d, 3, "INSERT INTO t VALUES (NULL,3,1,1,'a',TRUE)");
+            d.ask(committed, "COMMIT", "COMMIT I");
+            d.ask(1, "INSERT INTO t VALUES (NULL,1,1,1,'a',TRUE)", "40001 F");
+        }
+    }
+
+    // "Prepared statements, savepoints, locks and reads are gone." (POWER)
+    private static void goneWithThePower() {
+        Desk d = desk("reads are gone with the power");
+        begin(d, 1);
+        good(d, 1, "SELECT COUNT(*) FROM t");
+        d.x.charge(0);
+        d.ask(0, "CHECKPOINT", "power");
+        d.due("start", d.x.start(), true);
+        for (int s = 0; s < 4; s++) {
+            d.due("open", d.x.open(s), true);
+        }
+        begin(d, 0, 2);
+        good(d, 0, "SELECT COUNT(*) FROM u");
+        good(d, 2, "INSERT INTO u VALUES (1)");
+        d.ask(2, "COMMIT", "COMMIT I");
+        good(d, 0, "INSERT INTO t VALUES (1,1,1,1,'a',TRUE)");
+        d.ask(0, "COMMIT", "COMMIT I");
+    }
+
+    // "A committed transaction is kept as long as one that was concurrent runs": also when that is rolled back.
+    private static void goneWithTheLongOne() {
+        Desk d = keeping("gone with the one that is rolled back");
+        commitMany(d, 63);
+        d.ask(0, "ROLLBACK", "ROLLBACK I");
+        begin(d, 0, 1, 2);
+        for (int s = 0; s < 3; s++) {
+            d.ask(s, "SELECT k FROM u", "i SELECT 0 T");
+        }
     }
 
     /** So many that commit while session 0, which has begun, runs. */

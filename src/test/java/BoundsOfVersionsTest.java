@@ -14,6 +14,7 @@ public final class BoundsOfVersionsTest {
         snapshotBehindTheLocks();
         snapshotOfEachStatement();
         ownCommands();
+        ownCommandsAgain();
         rollbackToKeepsItsLevel();
         releaseGivesToTheLevelBefore();
         orderOfVersions();
@@ -24,6 +25,7 @@ public final class BoundsOfVersionsTest {
         twoThousandRows();
         limits();
         orderByTies();
+        distinctNulls();
         leftOut();
         notNull();
         uniqueOfNull();
@@ -295,6 +297,23 @@ public final class BoundsOfVersionsTest {
         d.ask(0, "SELECT k FROM t", "i (1) (2) SELECT 2 I");
     }
 
+    // A version in the place of one that is gone has its own command.
+    private static void ownCommandsAgain() {
+        Desk d = desk("own commands, again");
+        d.ask(0, "BEGIN", "BEGIN T");
+        for (int i = 0; i < 5; i++) {
+            d.ask(0, "SELECT COUNT(*) FROM t", "i (2) SELECT 1 T");
+        }
+        d.ask(0, "INSERT INTO t VALUES (3, 30)", "INSERT 1 T");
+        d.ask(0, "ROLLBACK", "ROLLBACK I");
+        d.ask(0, "VACUUM t", "VACUUM 1 I");
+        d.ask(0, "BEGIN", "BEGIN T");
+        d.ask(0, "INSERT INTO t VALUES (4, 40)", "INSERT 1 T");
+        d.ask(0, "SELECT k FROM t", "i (1) (2) (4) SELECT 3 T");
+        d.ask(0, "DELETE FROM t WHERE k = 4", "DELETE 1 T");
+        d.ask(0, "SELECT k FROM t", "i (1) (2) SELECT 2 T");
+    }
+
     // "(that level stays, empty; their table locks go)"
     private static void rollbackToKeepsItsLevel() {
         Desk d = desk("ROLLBACK TO keeps its level");
@@ -486,6 +505,20 @@ public final class BoundsOfVersionsTest {
         d.ask(0, "SELECT a FROM o ORDER BY 1 DESC", "i (~) (6) (5) (4) (3) (2) (1) SELECT 7 I");
         d.ask(0, "SELECT DISTINCT b FROM o ORDER BY 1", "i (0) (1) (2) (~) SELECT 4 I");
         d.ask(0, "SELECT DISTINCT b FROM o", "i (2) (~) (1) (0) SELECT 4 I");
+    }
+
+    // "DISTINCT: a row like an earlier one goes.": NULL is like NULL, whatever it was made of.
+    private static void distinctNulls() {
+        Desk d = Desk.with("DISTINCT of NULLs", 1);
+        d.ask(0, "CREATE TABLE o (a INT, s TEXT)", "CREATE I");
+        d.ask(0, "INSERT INTO o VALUES (1,'a'),(2,'12345678abc'),(3,'1234567890123456789012345678901'),(NULL,NULL),(0,'')",
+            "INSERT 5 I");
+        d.ask(0, "SELECT DISTINCT a / 0, s || NULL, a = NULL, -(a % 0) FROM o", "itbi (~,~,~,~) SELECT 1 I");
+        d.ask(0, "SELECT DISTINCT s || NULL FROM o", "t (~) SELECT 1 I");
+        d.ask(0, "SELECT DISTINCT NOT (s > NULL), (s > NULL) AND TRUE FROM o", "bb (~,~) SELECT 1 I");
+        d.ask(0, "SELECT DISTINCT NULL FROM o", "t (~) SELECT 1 I");
+        d.ask(0, "SELECT DISTINCT MIN(a / 0), MAX(s || NULL), SUM(a % 0) FROM o GROUP BY a", "iti (~,~,~) SELECT 1 I");
+        d.ask(0, "SELECT DISTINCT a, s FROM o WHERE a < 2", "it (0,) (1,a) SELECT 2 I");
     }
 
     // "(its targets are the rows behind ORDER BY and LIMIT; what is left out is not made up for)"
