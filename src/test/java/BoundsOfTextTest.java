@@ -368,6 +368,8 @@ public final class BoundsOfTextTest {
         d.ask(0, "EXECUTE a (1, 2, 3, 4, 5, 6, 7, 8, 'x')", "t (x) SELECT 1 I");
         d.ask(0, "EXECUTE a (1, 2, 3, 4, 5, 6, 7, 8)", "42601 I");
         d.ask(0, "EXECUTE a (1, 2, 3, 4, 5, 6, 7, 8, 'x', 1)", "42601 I");
+        d.ask(0, "EXECUTE a (1, 2, 3, 4, 5, 6, 7, 8, 9)", "42804 I");
+        d.ask(0, "EXECUTE a (1, 2, 3, 4, 5, 6, 7, 8, NULL)", "t (~) SELECT 1 I");
         d.ask(0, "PREPARE b AS SELECT $1 FROM o", "PREPARE I");
         for (String text : new String[] {"$0", "$", "$$1", "$ 1", "$a", "$10", "$99"}) {
             d.ask(0, "PREPARE c AS SELECT " + text + " FROM o", "42601 I");
