@@ -498,7 +498,9 @@ public final class SessionServer {
             machine.work(code, code.from[i], code.to[i]);
             Machine.copy(machine.stack, 0, x.work.values, i * CELL);
         }
-        return code.takes(x.work.valueType, x.preparedTypes[p]) ? ON : WRONG_TYPE;
+        boolean fits = code.takes(x.work.valueType, x.preparedTypes[p]);
+        x.work.letNullsFit();
+        return fits ? ON : WRONG_TYPE;
     }
 
     // ---- going on
@@ -1219,6 +1221,15 @@ public final class SessionServer {
             rows = 0;
             done = 0;
             granted = false;
+        }
+
+        /** NULL is a value of each type, whatever the type of the expression that came to it. */
+        void letNullsFit() {
+            for (int i = 0; i < 9; i++) {
+                if (Machine.isNull(values, i * CELL)) {
+                    valueType[i + 1] = 0;
+                }
+            }
         }
 
         private void put(int b) {

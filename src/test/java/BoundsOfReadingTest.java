@@ -41,6 +41,8 @@ public final class BoundsOfReadingTest {
         noSuchSavepoint();
         valuesOfExecute();
         readAnew();
+        nullsOfExecute();
+        nullsOfExecuteBehind();
         whenFailed();
         whenIdle();
         Desk.end("BoundsOfReadingTest");
@@ -732,6 +734,72 @@ public final class BoundsOfReadingTest {
         d.ask(0, "CREATE TABLE t (k INT, s TEXT, b BOOL)", "CREATE I");
         d.ask(0, "EXECUTE q (5, 's', TRUE)", "INSERT 1 I");
         d.ask(0, "EXECUTE p (5)", "i (5) SELECT 1 I");
+    }
+
+    // "behind these errors 42804, if a value is of another type than its parameter has now"; "NULL is a value of each type"
+    private static void nullsOfExecute() {
+        Desk d = desk("NULLs of EXECUTE");
+        d.ask(0, "PREPARE p AS SELECT k FROM t WHERE k = $1", "PREPARE I");
+        d.ask(0, "PREPARE q AS SELECT s FROM t WHERE s = $1", "PREPARE I");
+        d.ask(0, "PREPARE r AS SELECT b FROM t WHERE b = $1", "PREPARE I");
+        d.ask(0, "PREPARE v AS INSERT INTO t VALUES ($1, $2, $3)", "PREPARE I");
+        d.ask(0, "PREPARE w AS SELECT k FROM t WHERE k = $1 OR s = $2", "PREPARE I");
+        d.ask(0, "EXECUTE p (1 / 0)", "i SELECT 0 I");
+        d.ask(0, "EXECUTE q (1 / 0)", "42804 I");
+        d.ask(0, "DROP TABLE t", "DROP I");
+        d.ask(0, "CREATE TABLE t (k TEXT, s BOOL, b INT)", "CREATE I");
+        String[] integers = {"1 / 0", "1 % 0", "NULL + 1", "-(5 / 0)"};
+        String[] texts = {"NULL || 'a'", "'a' || NULL"};
+        String[] truths = {"NULL = 1", "NOT NULL", "NULL AND TRUE", "1 / 0 > 2", "NULL BETWEEN 1 AND 2", "1 IN (2, NULL)"};
+        for (String e : integers) {
+            d.ask(0, "EXECUTE p (" + e + ")", "t SELECT 0 I");
+            d.ask(0, "EXECUTE q (" + e + ")", "42804 I");
+        }
+        for (String e : texts) {
+            d.ask(0, "EXECUTE q (" + e + ")", "b SELECT 0 I");
+            d.ask(0, "EXECUTE r (" + e + ")", "42804 I");
+        }
+        for (String e : truths) {
+            d.ask(0, "EXECUTE r (" + e + ")", "i SELECT 0 I");
+            d.ask(0, "EXECUTE p (" + e + ")", "42804 I");
+        }
+        // What is not NULL is of its type alone, also behind an EXECUTE with NULL.
+        d.ask(0, "EXECUTE p (1 / 1)", "42804 I");
+        d.ask(0, "EXECUTE q ('' || '')", "42804 I");
+        d.ask(0, "EXECUTE r (NULL AND FALSE)", "42804 I");
+        d.ask(0, "EXECUTE r (NULL IS NULL)", "42804 I");
+        d.ask(0, "EXECUTE p ('a')", "42804 I");
+        d.ask(0, "EXECUTE w (1 / 0, 's')", "42804 I");
+        d.ask(0, "EXECUTE w (1, '' || NULL)", "42804 I");
+        d.ask(0, "EXECUTE w (1 / 0, '' || NULL)", "t SELECT 0 I");
+        d.ask(0, "EXECUTE v (1 / 0, '' || NULL, NULL = 1)", "INSERT 1 I");
+        d.ask(0, "SELECT * FROM t", "tbi (~,~,~) SELECT 1 I");
+    }
+
+    // A value that is NULL is looked at like others behind the errors of reading.
+    private static void nullsOfExecuteBehind() {
+        Desk d = desk("NULLs of EXECUTE, behind");
+        d.ask(0, "PREPARE p AS SELECT k FROM t WHERE k = $1", "PREPARE I");
+        d.ask(0, "PREPARE q AS INSERT INTO t VALUES ($1, 's', $2)", "PREPARE I");
+        d.ask(0, "PREPARE r AS SELECT $1, k FROM t WHERE k IS NULL", "PREPARE I");
+        d.ask(0, "DROP TABLE t", "DROP I");
+        d.ask(0, "EXECUTE p (1 / 0)", "42P01 I");
+        d.ask(0, "CREATE TABLE t (x INT)", "CREATE I");
+        d.ask(0, "EXECUTE p (1 / 0)", "42703 I");
+        d.ask(0, "DROP TABLE t", "DROP I");
+        d.ask(0, "CREATE TABLE t (k TEXT NOT NULL, s TEXT, b INT)", "CREATE I");
+        d.ask(0, "EXECUTE q (1 / 0, NULL)", "23502 I");
+        d.ask(0, "EXECUTE q (1 / 0, TRUE)", "42804 I");
+        d.ask(0, "DROP TABLE t", "DROP I");
+        d.ask(0, "CREATE TABLE t (k BOOL UNIQUE, s TEXT, b INT)", "CREATE I");
+        d.ask(0, "EXECUTE q (1 / 0, NULL AND TRUE)", "INSERT 1 I");
+        d.ask(0, "EXECUTE q (1 / 0, NULL)", "INSERT 1 I");
+        d.ask(0, "SELECT * FROM t", "bti (~,s,~) (~,s,~) SELECT 2 I");
+        d.ask(0, "EXECUTE r ('a' || NULL)", "tb (~,~) (~,~) SELECT 2 I");
+        d.ask(0, "BEGIN SERIALIZABLE", "BEGIN T");
+        d.ask(0, "EXECUTE p (1 / 0)", "b SELECT 0 T");
+        d.ask(0, "EXECUTE p (0)", "42804 F");
+        d.ask(0, "ROLLBACK", "ROLLBACK I");
     }
 
     // "in FAILED all but ROLLBACK, ROLLBACK TO and COMMIT (...) are 25P02"

@@ -316,6 +316,7 @@ public final class MeaningTest {
         d.ask(0, "EXECUTE r ('a')", "42804 I");
         d.ask(0, "EXECUTE r (1)", "42804 I");
         d.ask(0, "EXECUTE r (NULL)", "t SELECT 0 I");
+        d.ask(0, "EXECUTE r (1 / 0)", "t SELECT 0 I");
         d.ask(0, "EXECUTE v (5, 'a')", "42804 I");
         d.ask(0, "EXECUTE p (0, 5, 'z')", "42804 I");
         d.ask(0, "EXECUTE w", "i (1) SELECT 1 I");
